@@ -1346,7 +1346,6 @@ public final class TossGround {
             return wrongAt;
         }
 
-        @Override
         void readLine() {
             if (aheadOfToss && takesWord("sessions")) {
                 keep(SESSIONS, number(1, SESSIONS_MOST), 0, 0, 0);
@@ -1477,7 +1476,6 @@ public final class TossGround {
             return wrongAt;
         }
 
-        @Override
         void readLine() {
             mustTake("hard");
             int hard = number(0, 9);
