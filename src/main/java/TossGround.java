@@ -25,13 +25,13 @@ public final class TossGround {
     private final int[] tape = new int[TAPE_MOST];
     private int tapeLength = 0;
     private int faultAt = NONE;
-    private final Ground told = new Ground();
+    private final Odds odds = new Odds();
+    private final Ground told = odds.ground;
     private final Match game = new Match();
     private final Match trial = new Match();
     private final Past past = new Past();
     private final GroundText groundText = new GroundText();
     private final LawText lawText = new LawText();
-    private final Odds odds = new Odds(told);
     private final Mornings mornings = new Mornings();
     private final Ground keptTold = new Ground();
     private final Match keptGame = new Match();
@@ -375,7 +375,7 @@ public final class TossGround {
         long extreme = 0;
         for (int slot = 0; slot < SLOTS; slot++) {
             long ways = waysAfter(slot);
-            long value = odds.valueOf(ways, game.played + 1, toFirst);
+            long value = odds.valueOf(ways, game.played + 1, toFirst, told.drawWorth);
             if (slot == 0 || (worst ? value < extreme : value > extreme)) {
                 extreme = value;
                 found = slot;
@@ -396,13 +396,15 @@ public final class TossGround {
         if (choice != GO_ON && choice != other) {
             throw new IllegalStateException("that choice cannot be made");
         }
-        odds.ready(game.first, told.drawWorth, false);
-        boolean toFirst = Odds.firstBats(kind);
-        long going = odds.valueOf(odds.waysGoingOn(game.played, kind, spot, lead), game.played, toFirst);
         if (other == GO_ON) {
             return 0;
         }
-        long turned = odds.valueOf(odds.waysOtherwise(game.played, kind, spot, lead), game.played, toFirst);
+        odds.ready(game.first, told.drawWorth, false);
+        boolean toFirst = Odds.firstBats(kind);
+        long waysGoing = odds.waysGoingOn(game.played, kind, spot, lead);
+        long waysTurned = odds.waysOtherwise(game.played, kind, spot, lead);
+        long going = odds.valueOf(waysGoing, game.played, toFirst, told.drawWorth);
+        long turned = odds.valueOf(waysTurned, game.played, toFirst, told.drawWorth);
         return Math.max(going, turned) - (choice == GO_ON ? going : turned);
     }
 
@@ -681,8 +683,7 @@ public final class TossGround {
     }
 
     private long tossValue(int side, int batsFirst) {
-        odds.ready(batsFirst, told.drawWorth, false);
-        return odds.valueOf(odds.waysAt(0, 0, Odds.FRESH, 0), 0, side == batsFirst);
+        return odds.valueOf(odds.waysOfNew(batsFirst), 0, side == batsFirst, told.drawWorth);
     }
 
     /** Above 0: a side that won the toss had better bat; below 0: field; 0: either. */
@@ -692,7 +693,8 @@ public final class TossGround {
 
     private long leftValue(int side) {
         int other = 1 - side;
-        return tossValue(side, betterToBat(other) >= 0 ? other : side);
+        boolean otherBats = tossValue(other, other) >= tossValue(other, side);
+        return tossValue(side, otherBats ? other : side);
     }
 
     private long winsOf(int played, int kind, int lead, int out, int what) {
@@ -813,20 +815,15 @@ public final class TossGround {
             if (index < 0 || index >= SESSIONS_MOST * 8) {
                 return 0;
             }
-            if (levels[index] == NONE) {
-                levels[index] = findLevel(session, innings, side);
+            if (levels[index] == NONE && law.lines == NONE) {
+                levels[index] = 1;
+            } else if (levels[index] == NONE) {
+                law.stand(session, innings, side);
+                law.standSides(batOf(side), bowlOf(1 - side));
+                law.standSky(bitOf(cloud, session), bitOf(tide, session));
+                levels[index] = Math.min(3, law.hardness());
             }
             return levels[index];
-        }
-
-        private int findLevel(int session, int innings, int side) {
-            if (law.lines == NONE) {
-                return 1;
-            }
-            law.stand(session, innings, side);
-            law.standSides(batOf(side), bowlOf(1 - side));
-            law.standSky(bitOf(cloud, session), bitOf(tide, session));
-            return Math.min(3, law.hardness());
         }
     }
 
@@ -1207,28 +1204,34 @@ public final class TossGround {
         }
     }
 
-    /** A text that is read from its begin to its end, or to its first wrong byte. */
+    /** A text cut into words, numbers and signs, which are taken one behind another. */
     private abstract static class Text {
-        private int[] bytes = new int[0];
-        private int length = 0;
+        private static final int WORD = 0;
+        private static final int NUMBER = 1;
+        private static final int SIGN = 2;
+        private static final int END = 3;
+
+        private final int[] bytes = new int[TAPE_MOST];
+        private final int[] kinds = new int[TAPE_MOST + 1];
+        private final int[] begins = new int[TAPE_MOST + 1];
+        private final int[] ends = new int[TAPE_MOST + 1];
+        private int things = 0;
         private int at = 0;
         int wrongAt = NONE;
 
         abstract void readLine();
 
         /** How many lines there are; wrongAt tells whether they are right. */
-        int readLines(int[] from, int fromLength, int most) {
-            bytes = from;
-            length = Math.max(0, Math.min(fromLength, from.length));
+        int readLines(int[] from, int length, int most) {
+            cut(from, Math.min(length, Math.min(from.length, TAPE_MOST)));
             at = 0;
             wrongAt = NONE;
-            move(0);
-            if (at >= length) {
+            if (isAt(END)) {
                 return 0;
             }
             for (int lines = 1; lines <= most; lines++) {
                 readLine();
-                if (wrongAt != NONE || at >= length) {
+                if (wrongAt != NONE || isAt(END)) {
                     return lines;
                 }
                 if (!takesSign(';')) {
@@ -1240,33 +1243,79 @@ public final class TossGround {
             return most;
         }
 
-        /** Only the first wrong thing counts; whatever is read behind it has no meaning. */
+        private void cut(int[] from, int length) {
+            things = 0;
+            int begin = 0;
+            while (begin < length) {
+                bytes[begin] = from[begin];
+                int end = begin + 1;
+                int kind = kindOf(from[begin]);
+                while (kind != SIGN && end < length && kindOf(from[end]) == kind) {
+                    bytes[end] = from[end];
+                    end++;
+                }
+                if (from[begin] != ' ') {
+                    addThing(kind, begin, end);
+                }
+                begin = end;
+            }
+            addThing(END, Math.max(0, length), Math.max(0, length));
+        }
+
+        private static int kindOf(int b) {
+            if (b >= 'a' && b <= 'z') {
+                return WORD;
+            }
+            return b >= '0' && b <= '9' ? NUMBER : SIGN;
+        }
+
+        private void addThing(int kind, int begin, int end) {
+            if (things >= 0 && things <= TAPE_MOST) {
+                kinds[things] = kind;
+                begins[things] = begin;
+                ends[things] = end;
+                things++;
+            }
+        }
+
+        /** Once something is wrong, nothing more is found anywhere. */
+        private boolean isAt(int kind) {
+            return wrongAt == NONE && at >= 0 && at < things && at <= TAPE_MOST && kinds[at] == kind;
+        }
+
+        private int byteAt(int index) {
+            return index < 0 || index >= TAPE_MOST ? NONE : bytes[index];
+        }
+
+        boolean isAtNumber() {
+            return isAt(NUMBER);
+        }
+
+        /** Only the first wrong thing counts. */
         void setWrong() {
-            if (wrongAt == NONE) {
-                wrongAt = at;
+            if (wrongAt == NONE && at >= 0 && at <= TAPE_MOST) {
+                wrongAt = begins[at];
             }
         }
 
         boolean takesSign(char sign) {
-            if (wrongAt != NONE || byteAt(at) != sign) {
+            if (!isAt(SIGN) || byteAt(begins[at]) != sign) {
                 return false;
             }
-            move(1);
+            at++;
             return true;
         }
 
-        /** A word goes as far as its letters do, so a longer one is another one. */
         boolean takesWord(String word) {
-            int size = word.length();
-            if (wrongAt != NONE || isLetter(byteAt(at + size))) {
+            if (!isAt(WORD) || ends[at] - begins[at] != word.length()) {
                 return false;
             }
-            for (int i = 0; i < size; i++) {
-                if (byteAt(at + i) != word.charAt(i)) {
+            for (int i = 0; i < word.length(); i++) {
+                if (byteAt(begins[at] + i) != word.charAt(i)) {
                     return false;
                 }
             }
-            move(size);
+            at++;
             return true;
         }
 
@@ -1276,45 +1325,22 @@ public final class TossGround {
             }
         }
 
-        boolean isAtNumber() {
-            return wrongAt == NONE && isDigit(byteAt(at));
-        }
-
-        /** A number between two bounds; the lower one, if it is wrong. */
+        /** A number of at most three digits between two bounds; the lower one, if it is wrong. */
         int number(int least, int most) {
-            int value = 0;
-            int digits = 0;
-            while (digits < 4 && isDigit(byteAt(at + digits))) {
-                value = value * 10 + byteAt(at + digits) - '0';
-                digits++;
-            }
-            if (digits == 0 || digits > 3 || value < least || value > most) {
+            if (!isAt(NUMBER)) {
                 setWrong();
-            }
-            if (wrongAt != NONE) {
                 return least;
             }
-            move(digits);
-            return value;
-        }
-
-        private void move(int steps) {
-            at += steps;
-            while (at < length && byteAt(at) == ' ') {
-                at++;
+            int value = 0;
+            for (int i = begins[at]; i < ends[at] && i < begins[at] + 3; i++) {
+                value = value * 10 + byteAt(i) - '0';
             }
-        }
-
-        private int byteAt(int index) {
-            return index < 0 || index >= length || index >= bytes.length ? NONE : bytes[index];
-        }
-
-        private static boolean isLetter(int b) {
-            return b >= 'a' && b <= 'z';
-        }
-
-        private static boolean isDigit(int b) {
-            return b >= '0' && b <= '9';
+            if (ends[at] - begins[at] > 3 || value < least || value > most) {
+                setWrong();
+                return least;
+            }
+            at++;
+            return value;
         }
     }
 
@@ -1519,47 +1545,39 @@ public final class TossGround {
                 law.add(Law.TIDE);
             } else {
                 readSum();
-                readThan();
-            }
-        }
-
-        private void readThan() {
-            if (takesSign('<')) {
+                boolean less = takesSign('<');
+                if (!less && !takesSign('>')) {
+                    setWrong();
+                }
                 readSum();
-                law.add(Law.LESS);
-            } else if (takesSign('>')) {
-                readSum();
-                law.add(Law.MORE);
-            } else {
-                setWrong();
+                law.add(less ? Law.LESS : Law.MORE);
             }
         }
 
         private void readSum() {
-            readPart();
-            for (int i = 0; i < TAPE_MOST && takesSign('+'); i++) {
-                readPart();
-                law.add(Law.PLUS);
-            }
-        }
-
-        private void readPart() {
-            if (isAtNumber()) {
-                law.add(number(0, 999));
-            } else if (takesWord("session")) {
-                law.add(Law.SESSION);
-            } else if (takesWord("day")) {
-                law.add(Law.DAY);
-            } else if (takesWord("innings")) {
-                law.add(Law.INNINGS);
-            } else if (takesWord("side")) {
-                law.add(Law.SIDE);
-            } else if (takesWord("bat")) {
-                law.add(Law.BAT);
-            } else if (takesWord("bowl")) {
-                law.add(Law.BOWL);
-            } else {
-                setWrong();
+            boolean more = true;
+            for (int parts = 0; parts < TAPE_MOST && more; parts++) {
+                if (isAtNumber()) {
+                    law.add(number(0, 999));
+                } else if (takesWord("session")) {
+                    law.add(Law.SESSION);
+                } else if (takesWord("day")) {
+                    law.add(Law.DAY);
+                } else if (takesWord("innings")) {
+                    law.add(Law.INNINGS);
+                } else if (takesWord("side")) {
+                    law.add(Law.SIDE);
+                } else if (takesWord("bat")) {
+                    law.add(Law.BAT);
+                } else if (takesWord("bowl")) {
+                    law.add(Law.BOWL);
+                } else {
+                    setWrong();
+                }
+                if (parts > 0) {
+                    law.add(Law.PLUS);
+                }
+                more = takesSign('+');
             }
         }
     }
@@ -1583,7 +1601,8 @@ public final class TossGround {
         private static final long LOW = (1L << BITS) - 1;
         private static final long BOTH = (1L << 2 * BITS) - 1;
 
-        private final Ground ground;
+        /** The ground as it is told, on which the ways are counted. */
+        final Ground ground = new Ground();
         /** Each entry bears the mark of the question it answers, so that none must be wiped. */
         private final long[] known = new long[SESSIONS_MOST * KINDS * SPOTS * LEADS];
         private long mark = 0;
@@ -1591,10 +1610,9 @@ public final class TossGround {
         private int first = 0;
         private int drawWorth = 0;
         private boolean blindly = false;
-
-        Odds(Ground ground) {
-            this.ground = ground;
-        }
+        /** Ways of a new match by who bats first, NONE where not yet asked for. */
+        private long newWays0 = NONE;
+        private long newWays1 = NONE;
 
         static int kindOf(int innings, boolean followed) {
             return followed && innings >= 2 ? innings + FOLLOWED : innings;
@@ -1614,6 +1632,8 @@ public final class TossGround {
 
         void forget() {
             stale = true;
+            newWays0 = NONE;
+            newWays1 = NONE;
         }
 
         /** What is known stays so as long as the same is asked of the same ground. */
@@ -1625,6 +1645,21 @@ public final class TossGround {
                 drawWorth = newDrawWorth;
                 blindly = newBlindly;
             }
+        }
+
+        /** Asked by turns for both sides, so both are kept beside what is known else. */
+        long waysOfNew(int batsFirst) {
+            long ways = batsFirst == 0 ? newWays0 : newWays1;
+            if (ways == NONE) {
+                ready(batsFirst, ground.drawWorth, false);
+                ways = waysAt(0, 0, FRESH, 0);
+                if (batsFirst == 0) {
+                    newWays0 = ways;
+                } else {
+                    newWays1 = ways;
+                }
+            }
+            return ways;
         }
 
         private long all(int played) {
@@ -1648,8 +1683,8 @@ public final class TossGround {
             return what == DRAW ? draws(ways, played) : waysOf(ways, what == first);
         }
 
-        long valueOf(long ways, int played, boolean toFirst) {
-            return 100 * waysOf(ways, toFirst) + drawWorth * draws(ways, played);
+        long valueOf(long ways, int played, boolean toFirst, int byDrawWorth) {
+            return 100 * waysOf(ways, toFirst) + byDrawWorth * draws(ways, played);
         }
 
         /** Which choice there is beside going on; there is never more than one. */
@@ -1669,8 +1704,8 @@ public final class TossGround {
                 return false;
             }
             boolean toFirst = firstBats(kind);
-            long going = valueOf(waysGoingOn(played, kind, spot, lead), played, toFirst);
-            return valueOf(waysOtherwise(played, kind, spot, lead), played, toFirst) > going;
+            long going = valueOf(waysGoingOn(played, kind, spot, lead), played, toFirst, drawWorth);
+            return valueOf(waysOtherwise(played, kind, spot, lead), played, toFirst, drawWorth) > going;
         }
 
         /** Likewise, with the lead of the side that bats. */
@@ -1710,7 +1745,8 @@ public final class TossGround {
             }
             long turned = waysOtherwise(played, kind, spot, lead);
             boolean toFirst = firstBats(kind);
-            return valueOf(turned, played, toFirst) > valueOf(going, played, toFirst) ? turned : going;
+            long gain = valueOf(turned, played, toFirst, drawWorth) - valueOf(going, played, toFirst, drawWorth);
+            return gain > 0 ? turned : going;
         }
 
         long waysGoingOn(int played, int kind, int spot, int lead) {

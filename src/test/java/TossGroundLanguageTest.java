@@ -1,0 +1,119 @@
+import java.io.DataInputStream;
+import java.io.File;
+import java.io.FileInputStream;
+import java.io.IOException;
+import java.lang.reflect.Constructor;
+import java.lang.reflect.Field;
+import java.lang.reflect.Method;
+import java.lang.reflect.Modifier;
+import java.util.Arrays;
+import java.util.List;
+import java.util.Set;
+import java.util.TreeSet;
+
+/** What can be seen of LANGUAGE.md in the compiled class: the face, the classes inside, the library that is used. */
+public final class TossGroundLanguageTest {
+    static int wrong = 0;
+    static int asked = 0;
+
+    static final String[] FACE = {"int feed(int,int,int,int,int)", "boolean end(int)", "int ground()", "int law()", "int fault()", "int side(int,boolean)",
+        "int slot(int,int,boolean)", "int session(int,int)", "int level(int,int,int)", "int match(int)", "int toss(int)", "int play()", "int bring(int)",
+        "int hold(int)", "int declare()", "int follow()", "int anew()", "long here(int)", "long worth(int,int)", "long evens(int)", "int well()",
+        "long after(int,int)", "int turning(boolean)", "long wins(int,int,boolean,int,int,int)", "boolean declares(int,int,boolean,int,int)",
+        "int when(int,int)", "boolean enforces(int,int)", "int chased(int)", "boolean holds(int,boolean,int,int)", "int turnover(int,int)",
+        "int line(int,int,boolean,int,int)", "long cost(int)", "int swing()", "int book(int)", "int share(int,int)", "boolean habit(boolean)",
+        "int signs(int,int,boolean)", "int best(boolean,boolean)", "long blind(int)", "int target(boolean)", "int streak(int)",
+        "int table(int,int,int,boolean)", "int form(int,int)", "int hardest(int,int)", "int log(int,int)", "int seed(int)", "boolean undo()",
+        "void image()", "boolean back()", "int count(int)"};
+
+    static final List<String> LIBRARY = Arrays.asList("java/lang/Object.<init>", "java/lang/Math.min", "java/lang/Math.max", "java/lang/Math.abs",
+        "java/lang/Long.compare", "java/lang/String.length", "java/lang/String.charAt", "java/lang/IllegalStateException.<init>",
+        "java/lang/IllegalArgumentException.<init>", "java/lang/IndexOutOfBoundsException.<init>", "java/lang/UnsupportedOperationException.<init>",
+        "java/util/NoSuchElementException.<init>");
+
+    static void must(boolean holds, String what) {
+        asked++;
+        if (!holds) {
+            wrong++;
+            System.out.println("not so: " + what);
+        }
+    }
+
+    static String written(Method m) {
+        StringBuilder s = new StringBuilder(m.getReturnType().getName()).append(' ').append(m.getName()).append('(');
+        Class<?>[] types = m.getParameterTypes();
+        for (int i = 0; i < types.length; i++) s.append(i == 0 ? "" : ",").append(types[i].getName());
+        return s.append(')').toString();
+    }
+
+    static void face(Class<?> c) {
+        Set<String> due = new TreeSet<>(Arrays.asList(FACE));
+        Set<String> names = new TreeSet<>();
+        for (String s : FACE) names.add(s.substring(s.indexOf(' ') + 1, s.indexOf('(')));
+        Set<String> got = new TreeSet<>();
+        must(Modifier.isFinal(c.getModifiers()) && Modifier.isPublic(c.getModifiers()), "the class is public and final");
+        for (Method m : c.getDeclaredMethods()) {
+            if (Modifier.isPrivate(m.getModifiers())) must(!names.contains(m.getName()), "private " + m.getName() + " bears no public name");
+            else got.add(written(m));
+        }
+        must(got.equals(due), "the face is the document's: " + got);
+        for (Constructor<?> k : c.getDeclaredConstructors()) must(Modifier.isPublic(k.getModifiers()) && k.getParameterCount() == 0, "one constructor");
+        for (Field f : c.getDeclaredFields()) must(Modifier.isPrivate(f.getModifiers()) || f.getName().equals("NONE"), f.getName() + " is private");
+        for (Class<?> n : c.getDeclaredClasses()) {
+            must(Modifier.isStatic(n.getModifiers()) && !Modifier.isPublic(n.getModifiers()), n.getName() + " is static, not public");
+            for (Method m : n.getDeclaredMethods()) must(!names.contains(m.getName()), n.getName() + "." + m.getName() + " bears no public name");
+        }
+        must(c.getDeclaredClasses().length + 1 <= 12, "at most twelve classes");
+    }
+
+    static void insides(Class<?> c) {
+        int fields = 0;
+        for (Field f : c.getDeclaredFields()) {
+            if (Modifier.isStatic(f.getModifiers())) must(Modifier.isFinal(f.getModifiers()), "static " + f.getName() + " is final");
+            else fields++;
+        }
+        must(fields <= 20, c.getName() + " has at most twenty fields, not " + fields);
+        for (Method m : c.getDeclaredMethods()) must(m.getParameterCount() <= 7, m.getName() + " takes at most seven");
+    }
+
+    /** Every method of another class that the constant pool names. */
+    static void library(File file) throws IOException {
+        try (DataInputStream in = new DataInputStream(new FileInputStream(file))) {
+            in.skipBytes(8);
+            int n = in.readUnsignedShort();
+            Object[] pool = new Object[n];
+            int[] tags = new int[n];
+            for (int i = 1; i < n; i++) {
+                tags[i] = in.readUnsignedByte();
+                switch (tags[i]) {
+                    case 1: pool[i] = in.readUTF(); break;
+                    case 3: case 4: in.readInt(); break;
+                    case 5: case 6: in.readLong(); i++; break;
+                    case 7: case 8: case 16: case 19: case 20: pool[i] = new int[] {in.readUnsignedShort()}; break;
+                    case 15: in.readUnsignedByte(); in.readUnsignedShort(); break;
+                    default: pool[i] = new int[] {in.readUnsignedShort(), in.readUnsignedShort()};
+                }
+            }
+            for (int i = 1; i < n; i++) {
+                must(tags[i] != 17 && tags[i] != 18, file.getName() + ": nothing dynamic (lambdas, joined texts)");
+                if (tags[i] != 9 && tags[i] != 10 && tags[i] != 11) continue;
+                String owner = (String) pool[((int[]) pool[((int[]) pool[i])[0]])[0]];
+                String name = (String) pool[((int[]) pool[((int[]) pool[i])[1]])[0]];
+                must(owner.startsWith("TossGround") || LIBRARY.contains(owner + "." + name), file.getName() + ": " + owner + "." + name + " is of the library");
+            }
+        }
+    }
+
+    public static void main(String[] args) throws Exception {
+        Class<?> c = TossGround.class;
+        face(c);
+        insides(c);
+        for (Class<?> n : c.getDeclaredClasses()) insides(n);
+        File dir = new File(c.getProtectionDomain().getCodeSource().getLocation().toURI());
+        File[] files = dir.listFiles((d, name) -> name.equals("TossGround.class") || name.startsWith("TossGround$"));
+        must(files != null && files.length == c.getDeclaredClasses().length + 1, "the compiled classes are there");
+        if (files != null) for (File f : files) library(f);
+        System.out.println(wrong == 0 ? "all " + asked + " are so" : wrong + " of " + asked + " are not so");
+        if (wrong != 0) System.exit(1);
+    }
+}
