@@ -62,7 +62,7 @@ public final class TossGround {
         return true;
     }
 
-    public int ground() {
+    public int ground() throws IllegalArgumentException, UnsupportedOperationException {
         faultAt = groundText.readGround(tape, useTape(), game.first == NONE, told.book.size);
         if (faultAt != NONE) {
             throw new IllegalArgumentException("the text is wrong");
@@ -76,7 +76,7 @@ public final class TossGround {
         return told.texts;
     }
 
-    public int law() {
+    public int law() throws IllegalArgumentException {
         faultAt = lawText.readLaw(tape, useTape());
         if (faultAt != NONE) {
             throw new IllegalArgumentException("the text is wrong");
@@ -92,18 +92,18 @@ public final class TossGround {
 
     // ---- the ground as it is told
 
-    public int side(int side, boolean bowl) {
+    public int side(int side, boolean bowl) throws IndexOutOfBoundsException {
         mustBeBelow(side, 2);
         return bowl ? told.bowlOf(side) : told.batOf(side);
     }
 
-    public int slot(int level, int slot, boolean outs) {
+    public int slot(int level, int slot, boolean outs) throws IndexOutOfBoundsException {
         mustBeBelow(level, LEVELS);
         mustBeBelow(slot, SLOTS);
         return outs ? told.outsOf(level, slot) : told.runsOf(level, slot);
     }
 
-    public int session(int session, int what) {
+    public int session(int session, int what) throws IndexOutOfBoundsException, NoSuchElementException {
         mustBeBelow(session, told.sessions);
         switch (what) {
             case 0:
@@ -119,14 +119,14 @@ public final class TossGround {
         }
     }
 
-    public int level(int session, int innings, int side) {
+    public int level(int session, int innings, int side) throws IndexOutOfBoundsException {
         mustBeBelow(session, told.sessions);
         mustBeBelow(innings, 4);
         mustBeBelow(side, 2);
         return told.levelOf(session, innings, side);
     }
 
-    public int table(int session, int innings, int side, boolean outs) {
+    public int table(int session, int innings, int side, boolean outs) throws IndexOutOfBoundsException {
         mustBeBelow(session, told.sessions);
         mustBeBelow(innings, 4);
         mustBeBelow(side, 2);
@@ -138,7 +138,7 @@ public final class TossGround {
         return sum;
     }
 
-    public int hardest(int innings, int side) {
+    public int hardest(int innings, int side) throws IndexOutOfBoundsException {
         mustBeBelow(innings, 4);
         mustBeBelow(side, 2);
         int found = 0;
@@ -184,7 +184,7 @@ public final class TossGround {
 
     // ---- the match and its acts
 
-    public int match(int what) {
+    public int match(int what) throws NoSuchElementException {
         switch (what) {
             case 0:
                 return game.first;
@@ -213,7 +213,7 @@ public final class TossGround {
         }
     }
 
-    public int toss(int side) {
+    public int toss(int side) throws IndexOutOfBoundsException, IllegalStateException {
         mustBeBelow(side, 2);
         if (game.first != NONE) {
             throw new IllegalStateException("the toss was");
@@ -223,7 +223,7 @@ public final class TossGround {
         return told.levelOf(0, 0, side);
     }
 
-    public int play() {
+    public int play() throws IllegalStateException {
         mustBeOn();
         past.remember(game);
         int slot = game.drawSlot();
@@ -231,7 +231,7 @@ public final class TossGround {
         return slot;
     }
 
-    public int bring(int slot) {
+    public int bring(int slot) throws IndexOutOfBoundsException, IllegalStateException {
         mustBeBelow(slot, SLOTS);
         mustBeOn();
         past.remember(game);
@@ -240,7 +240,7 @@ public final class TossGround {
         return game.leadOf(bats);
     }
 
-    public int hold(int slot) {
+    public int hold(int slot) throws IndexOutOfBoundsException, IllegalStateException {
         mustBeBelow(slot, SLOTS);
         mustBeChase();
         past.remember(game);
@@ -249,7 +249,7 @@ public final class TossGround {
         return game.leadOf(bats);
     }
 
-    public int declare() {
+    public int declare() throws IllegalStateException {
         if (!game.mayDeclare()) {
             throw new IllegalStateException("nobody may declare");
         }
@@ -259,7 +259,7 @@ public final class TossGround {
         return game.leadOf(bats);
     }
 
-    public int follow() {
+    public int follow() throws IllegalStateException {
         if (!game.mayFollow(told.margin)) {
             throw new IllegalStateException("nobody may be made to follow on");
         }
@@ -303,7 +303,7 @@ public final class TossGround {
 
     // ---- what the match tells
 
-    public int target(boolean each) {
+    public int target(boolean each) throws IllegalStateException {
         mustBeChase();
         int runs = 1 - game.leadOf(game.batting());
         int left = told.sessions - game.played;
@@ -313,7 +313,7 @@ public final class TossGround {
         return (runs + left - 1) / left;
     }
 
-    public int form(int side, int day) {
+    public int form(int side, int day) throws IndexOutOfBoundsException, IllegalArgumentException {
         mustBeBelow(side, 2);
         if (day < 0 || day > 2) {
             throw new IllegalArgumentException("no such day");
@@ -327,14 +327,14 @@ public final class TossGround {
         return sum;
     }
 
-    public int log(int session, int what) {
+    public int log(int session, int what) throws NoSuchElementException {
         if (what < 0 || what >= LOG_WIDTH) {
             throw new NoSuchElementException("no such what");
         }
         return game.logged(session, what);
     }
 
-    public int swing() {
+    public int swing() throws IllegalStateException, IllegalArgumentException {
         int length = useTape();
         mustBeOn();
         if (length != told.sessions - game.played || !tapeIsBelow(length, SLOTS)) {
@@ -351,15 +351,15 @@ public final class TossGround {
 
     // ---- odds from the match as it is
 
-    public long here(int what) {
+    public long here(int what) throws IllegalStateException, NoSuchElementException {
         return oddsFromHere(what, false);
     }
 
-    public long blind(int what) {
+    public long blind(int what) throws IllegalStateException, NoSuchElementException {
         return oddsFromHere(what, true);
     }
 
-    public long after(int slot, int what) {
+    public long after(int slot, int what) throws IndexOutOfBoundsException, IllegalStateException, NoSuchElementException {
         mustBeBelow(slot, SLOTS);
         mustBeOn();
         if (what < 0 || what > 3) {
@@ -368,7 +368,7 @@ public final class TossGround {
         return odds.part(waysAfter(slot), game.played + 1, what);
     }
 
-    public int turning(boolean worst) {
+    public int turning(boolean worst) throws IllegalStateException {
         mustBeOn();
         boolean toFirst = game.batting() == game.first;
         int found = 0;
@@ -384,7 +384,7 @@ public final class TossGround {
         return found;
     }
 
-    public long cost(int choice) {
+    public long cost(int choice) throws IllegalArgumentException, IllegalStateException {
         if (choice < GO_ON || choice > HOLD) {
             throw new IllegalArgumentException("no such choice");
         }
@@ -410,7 +410,7 @@ public final class TossGround {
 
     // ---- odds of a new match
 
-    public long worth(int side, int what) {
+    public long worth(int side, int what) throws IndexOutOfBoundsException, NoSuchElementException {
         mustBeBelow(side, 2);
         switch (what) {
             case 0:
@@ -426,7 +426,7 @@ public final class TossGround {
         }
     }
 
-    public long evens(int side) {
+    public long evens(int side) throws IndexOutOfBoundsException {
         mustBeBelow(side, 2);
         return Math.max(tossValue(side, 0), tossValue(side, 1)) + leftValue(side);
     }
@@ -448,7 +448,7 @@ public final class TossGround {
 
     // ---- odds of a told state
 
-    public long wins(int played, int innings, boolean followed, int lead, int out, int what) {
+    public long wins(int played, int innings, boolean followed, int lead, int out, int what) throws IndexOutOfBoundsException, IllegalArgumentException, NoSuchElementException {
         mustBeState(played, innings, lead, out);
         if (what < 0 || what > 2) {
             throw new NoSuchElementException("no such what");
@@ -457,13 +457,13 @@ public final class TossGround {
         return winsOf(played, Odds.kindOf(innings, followed), lead, out, what);
     }
 
-    public boolean declares(int played, int innings, boolean followed, int lead, int out) {
+    public boolean declares(int played, int innings, boolean followed, int lead, int out) throws IndexOutOfBoundsException, IllegalArgumentException {
         mustBeState(played, innings, lead, out);
         odds.ready(0, told.drawWorth, false);
         return innings != LAST_INNINGS && odds.choosesTold(played, Odds.kindOf(innings, followed), lead, out);
     }
 
-    public int when(int played, int out) {
+    public int when(int played, int out) throws IndexOutOfBoundsException, IllegalArgumentException {
         mustBeState(played, 2, 0, out);
         odds.ready(0, told.drawWorth, false);
         for (int lead = -LEAD_MOST; lead <= LEAD_MOST; lead++) {
@@ -474,13 +474,13 @@ public final class TossGround {
         return WITHOUT;
     }
 
-    public boolean enforces(int played, int lead) {
+    public boolean enforces(int played, int lead) throws IndexOutOfBoundsException, IllegalArgumentException {
         mustBeState(played, 2, lead, 0);
         odds.ready(0, told.drawWorth, false);
         return odds.chooses(played, Odds.kindOf(2, false), Odds.FRESH, lead);
     }
 
-    public int chased(int played) {
+    public int chased(int played) throws IndexOutOfBoundsException {
         mustBeState(played, LAST_INNINGS, 0, 0);
         odds.ready(0, told.drawWorth, false);
         int kind = Odds.kindOf(LAST_INNINGS, false);
@@ -492,13 +492,13 @@ public final class TossGround {
         return NONE;
     }
 
-    public boolean holds(int played, boolean followed, int lead, int out) {
+    public boolean holds(int played, boolean followed, int lead, int out) throws IndexOutOfBoundsException, IllegalArgumentException {
         mustBeState(played, LAST_INNINGS, lead, out);
         odds.ready(0, told.drawWorth, false);
         return odds.choosesTold(played, Odds.kindOf(LAST_INNINGS, followed), lead, out);
     }
 
-    public int turnover(int played, int out) {
+    public int turnover(int played, int out) throws IndexOutOfBoundsException, IllegalArgumentException {
         mustBeState(played, LAST_INNINGS, 0, out);
         odds.ready(0, told.drawWorth, false);
         for (int behind = LEAD_MOST; behind >= 0; behind--) {
@@ -509,7 +509,7 @@ public final class TossGround {
         return NONE;
     }
 
-    public int line(int played, int innings, boolean followed, int lead, int out) {
+    public int line(int played, int innings, boolean followed, int lead, int out) throws IndexOutOfBoundsException, IllegalArgumentException {
         mustBeState(played, innings, lead, out);
         if (innings == LAST_INNINGS) {
             return NONE;
@@ -526,14 +526,14 @@ public final class TossGround {
 
     // ---- the book
 
-    public int book(int what) {
+    public int book(int what) throws NoSuchElementException {
         if (what < 0 || what > 5) {
             throw new NoSuchElementException("no such what");
         }
         return told.book.tally(what);
     }
 
-    public int share(int what, int of) {
+    public int share(int what, int of) throws NoSuchElementException {
         if (what < 0 || what > 5 || of < 0 || of > 5) {
             throw new NoSuchElementException("no such what");
         }
@@ -550,7 +550,7 @@ public final class TossGround {
         return all > 0 && told.book.tally(1) * 10 >= all * 9;
     }
 
-    public int streak(int what) {
+    public int streak(int what) throws NoSuchElementException {
         if (what < 0 || what > 2) {
             throw new NoSuchElementException("no such what");
         }
@@ -559,7 +559,7 @@ public final class TossGround {
 
     // ---- signs of mornings
 
-    public int signs(int sign, int value, boolean swung) {
+    public int signs(int sign, int value, boolean swung) throws IllegalArgumentException {
         int length = useTape();
         if (!tapeIsMornings(length) || sign < 0 || sign > 2 || value < 0 || value > 3) {
             throw new IllegalArgumentException("no mornings, or no such sign or value");
@@ -568,7 +568,7 @@ public final class TossGround {
         return mornings.swungWith(value) + (swung ? 0 : mornings.stillWith(value));
     }
 
-    public int best(boolean rule, boolean many) {
+    public int best(boolean rule, boolean many) throws IllegalArgumentException {
         int length = useTape();
         if (!tapeIsMornings(length)) {
             throw new IllegalArgumentException("no mornings");

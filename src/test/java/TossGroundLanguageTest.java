@@ -16,15 +16,58 @@ public final class TossGroundLanguageTest {
     static int wrong = 0;
     static int asked = 0;
 
-    static final String[] FACE = {"int feed(int,int,int,int,int)", "boolean end(int)", "int ground()", "int law()", "int fault()", "int side(int,boolean)",
-        "int slot(int,int,boolean)", "int session(int,int)", "int level(int,int,int)", "int match(int)", "int toss(int)", "int play()", "int bring(int)",
-        "int hold(int)", "int declare()", "int follow()", "int anew()", "long here(int)", "long worth(int,int)", "long evens(int)", "int well()",
-        "long after(int,int)", "int turning(boolean)", "long wins(int,int,boolean,int,int,int)", "boolean declares(int,int,boolean,int,int)",
-        "int when(int,int)", "boolean enforces(int,int)", "int chased(int)", "boolean holds(int,boolean,int,int)", "int turnover(int,int)",
-        "int line(int,int,boolean,int,int)", "long cost(int)", "int swing()", "int book(int)", "int share(int,int)", "boolean habit(boolean)",
-        "int signs(int,int,boolean)", "int best(boolean,boolean)", "long blind(int)", "int target(boolean)", "int streak(int)",
-        "int table(int,int,int,boolean)", "int form(int,int)", "int hardest(int,int)", "int log(int,int)", "int seed(int)", "boolean undo()",
-        "void image()", "boolean back()", "int count(int)"};
+    /** The document's declarations, the exceptions in its order: that order is the one in which they are thrown. */
+    static final String[] FACE = {
+        "int feed(int,int,int,int,int)",
+        "boolean end(int)",
+        "int ground() throws IllegalArgumentException, UnsupportedOperationException",
+        "int law() throws IllegalArgumentException",
+        "int fault()",
+        "int side(int,boolean) throws IndexOutOfBoundsException",
+        "int slot(int,int,boolean) throws IndexOutOfBoundsException",
+        "int session(int,int) throws IndexOutOfBoundsException, NoSuchElementException",
+        "int level(int,int,int) throws IndexOutOfBoundsException",
+        "int match(int) throws NoSuchElementException",
+        "int toss(int) throws IndexOutOfBoundsException, IllegalStateException",
+        "int play() throws IllegalStateException",
+        "int bring(int) throws IndexOutOfBoundsException, IllegalStateException",
+        "int hold(int) throws IndexOutOfBoundsException, IllegalStateException",
+        "int declare() throws IllegalStateException",
+        "int follow() throws IllegalStateException",
+        "int anew()",
+        "long here(int) throws IllegalStateException, NoSuchElementException",
+        "long worth(int,int) throws IndexOutOfBoundsException, NoSuchElementException",
+        "long evens(int) throws IndexOutOfBoundsException",
+        "int well()",
+        "long after(int,int) throws IndexOutOfBoundsException, IllegalStateException, NoSuchElementException",
+        "int turning(boolean) throws IllegalStateException",
+        "long wins(int,int,boolean,int,int,int) throws IndexOutOfBoundsException, IllegalArgumentException, NoSuchElementException",
+        "boolean declares(int,int,boolean,int,int) throws IndexOutOfBoundsException, IllegalArgumentException",
+        "int when(int,int) throws IndexOutOfBoundsException, IllegalArgumentException",
+        "boolean enforces(int,int) throws IndexOutOfBoundsException, IllegalArgumentException",
+        "int chased(int) throws IndexOutOfBoundsException",
+        "boolean holds(int,boolean,int,int) throws IndexOutOfBoundsException, IllegalArgumentException",
+        "int turnover(int,int) throws IndexOutOfBoundsException, IllegalArgumentException",
+        "int line(int,int,boolean,int,int) throws IndexOutOfBoundsException, IllegalArgumentException",
+        "long cost(int) throws IllegalArgumentException, IllegalStateException",
+        "int swing() throws IllegalStateException, IllegalArgumentException",
+        "int book(int) throws NoSuchElementException",
+        "int share(int,int) throws NoSuchElementException",
+        "boolean habit(boolean)",
+        "int signs(int,int,boolean) throws IllegalArgumentException",
+        "int best(boolean,boolean) throws IllegalArgumentException",
+        "long blind(int) throws IllegalStateException, NoSuchElementException",
+        "int target(boolean) throws IllegalStateException",
+        "int streak(int) throws NoSuchElementException",
+        "int table(int,int,int,boolean) throws IndexOutOfBoundsException",
+        "int form(int,int) throws IndexOutOfBoundsException, IllegalArgumentException",
+        "int hardest(int,int) throws IndexOutOfBoundsException",
+        "int log(int,int) throws NoSuchElementException",
+        "int seed(int)",
+        "boolean undo()",
+        "void image()",
+        "boolean back()",
+        "int count(int)"};
 
     static final List<String> LIBRARY = Arrays.asList("java/lang/Object.<init>", "java/lang/Math.min", "java/lang/Math.max", "java/lang/Math.abs",
         "java/lang/Long.compare", "java/lang/String.length", "java/lang/String.charAt", "java/lang/IllegalStateException.<init>",
@@ -43,7 +86,10 @@ public final class TossGroundLanguageTest {
         StringBuilder s = new StringBuilder(m.getReturnType().getName()).append(' ').append(m.getName()).append('(');
         Class<?>[] types = m.getParameterTypes();
         for (int i = 0; i < types.length; i++) s.append(i == 0 ? "" : ",").append(types[i].getName());
-        return s.append(')').toString();
+        s.append(')');
+        Class<?>[] thrown = m.getExceptionTypes();
+        for (int i = 0; i < thrown.length; i++) s.append(i == 0 ? " throws " : ", ").append(thrown[i].getSimpleName());
+        return s.toString();
     }
 
     static void face(Class<?> c) {
@@ -56,8 +102,12 @@ public final class TossGroundLanguageTest {
             if (Modifier.isPrivate(m.getModifiers())) must(!names.contains(m.getName()), "private " + m.getName() + " bears no public name");
             else got.add(written(m));
         }
-        must(got.equals(due), "the face is the document's: " + got);
-        for (Constructor<?> k : c.getDeclaredConstructors()) must(Modifier.isPublic(k.getModifiers()) && k.getParameterCount() == 0, "one constructor");
+        for (String s : due) must(got.contains(s), "the face has: " + s);
+        for (String s : got) must(due.contains(s), "the document has: " + s);
+        for (Constructor<?> k : c.getDeclaredConstructors()) {
+            must(Modifier.isPublic(k.getModifiers()) && k.getParameterCount() == 0, "one constructor");
+            must(k.getExceptionTypes().length == 0, "the constructor declares no exception");
+        }
         for (Field f : c.getDeclaredFields()) must(Modifier.isPrivate(f.getModifiers()) || f.getName().equals("NONE"), f.getName() + " is private");
         for (Class<?> n : c.getDeclaredClasses()) {
             must(Modifier.isStatic(n.getModifiers()) && !Modifier.isPublic(n.getModifiers()), n.getName() + " is static, not public");
