@@ -1,21 +1,7 @@
-import java.nio.charset.StandardCharsets;
-import java.util.Arrays;
-import java.util.NoSuchElementException;
-
 /** Each promise of the document by its number: ordinary inputs, edges, wrong inputs. */
-public final class TossGroundPromiseTest {
+public final class TossGroundPromiseTest extends TossGroundTools {
     static int wrong = 0;
     static int asked = 0;
-
-    interface Call {
-        void make();
-    }
-
-    static final Class<?> INDEX = IndexOutOfBoundsException.class;
-    static final Class<?> ARGUMENT = IllegalArgumentException.class;
-    static final Class<?> STATE = IllegalStateException.class;
-    static final Class<?> ELEMENT = NoSuchElementException.class;
-    static final Class<?> UNSUPPORTED = UnsupportedOperationException.class;
 
     static void due(int promise, String what, long got, long want) {
         asked++;
@@ -31,78 +17,11 @@ public final class TossGroundPromiseTest {
 
     static void refuses(int promise, String what, Class<?> want, Call call) {
         asked++;
-        Class<?> got = null;
-        try {
-            call.make();
-        } catch (RuntimeException e) {
-            got = e.getClass();
-        }
+        Class<?> got = thrownBy(call);
         if (got != want) {
             wrong++;
             System.out.println("promise " + promise + ": " + what + " threw " + got + ", due is " + want);
         }
-    }
-
-    static TossGround tape(TossGround x, String s) {
-        byte[] bytes = Arrays.copyOf(s.getBytes(StandardCharsets.ISO_8859_1), (s.length() + 19) / 20 * 20);
-        for (int i = 0; i < bytes.length; i += 20) {
-            int[] v = new int[5];
-            for (int j = 0; j < 20; j++) v[j / 4] = v[j / 4] << 8 | bytes[i + j] & 255;
-            x.feed(v[0], v[1], v[2], v[3], v[4]);
-        }
-        x.end(s.length());
-        return x;
-    }
-
-    static TossGround bytes(TossGround x, int... b) {
-        StringBuilder s = new StringBuilder();
-        for (int n : b) s.append((char) n);
-        return tape(x, s.toString());
-    }
-
-    static TossGround tell(TossGround x, String... texts) {
-        for (String s : texts) tape(x, s).ground();
-        return x;
-    }
-
-    static TossGround told(String... texts) {
-        return tell(new TossGround(), texts);
-    }
-
-    static TossGround lawOf(TossGround x, String s) {
-        tape(x, s).law();
-        return x;
-    }
-
-    /** All slots of one level bring the same. */
-    static String flat(int level, int runs, int outs) {
-        StringBuilder s = new StringBuilder();
-        for (int k = 0; k < 4; k++) s.append(k == 0 ? "" : ";").append("slot " + level + " " + k + " runs " + runs + " outs " + outs);
-        return s.toString();
-    }
-
-    static int groundFault(TossGround x, String s) {
-        try {
-            tape(x, s).ground();
-        } catch (IllegalArgumentException e) {
-            return x.fault();
-        }
-        return x.fault() == -1 ? -1 : -5;
-    }
-
-    static int lawFault(TossGround x, String s) {
-        try {
-            tape(x, s).law();
-        } catch (IllegalArgumentException e) {
-            return x.fault();
-        }
-        return x.fault() == -1 ? -1 : -5;
-    }
-
-    static String times(String s, int n, String between) {
-        StringBuilder b = new StringBuilder();
-        for (int i = 0; i < n; i++) b.append(i == 0 ? "" : between).append(s);
-        return b.toString();
     }
 
     static void p1() {
@@ -708,18 +627,9 @@ public final class TossGroundPromiseTest {
         due(34, "side 0 passes", bytes(y, 0, 0, 0, 0, 0, 0, 1, 3, 3).swing(), 0);
         due(34, "side 0 is out behind", bytes(y, 1, 0, 0, 0, 1, 0, 0, 0, 0).swing(), 1);
         due(34, "side 0 leads as innings 3 begins", bytes(y, 0, 0, 0, 1, 0, 0, 2, 2, 2).swing(), 0);
-        due(34, "a slot of one that is over must be one too", thrown(() -> bytes(y, 0, 0, 0, 0, 0, 0, 1, 3, 9).swing()), 1);
+        refuses(34, "a slot of one that is over must be one too", ARGUMENT, () -> bytes(y, 0, 0, 0, 0, 0, 0, 1, 3, 9).swing());
         for (int i = 0; i < 7; i++) y.bring(i == 6 ? 1 : 0);
         refuses(34, "over", STATE, () -> bytes(y, 0, 0).swing());
-    }
-
-    static int thrown(Call c) {
-        try {
-            c.make();
-        } catch (IllegalArgumentException e) {
-            return 1;
-        }
-        return 0;
     }
 
     static void p35to37and42() {
