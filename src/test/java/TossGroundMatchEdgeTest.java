@@ -273,6 +273,14 @@ public final class TossGroundMatchEdgeTest extends TossGroundSentences {
             match(x, -1, 0, 0, 0, 0, -1, 0, 0, -1, 0, 0);
             for (int what = 0; what < 7; what++) due("the log, what " + what, x.log(0, what), -99);
             due("acts", x.count(10), 5);
+            TossGround won = duel(9, 0, 0, 0, 3, 0, 0, 0);
+            match(won, 0, 3, 0, 0, 1, -1, 6, 0, 1, 0, 1);
+            due("over", won.anew(), 6);
+            match(won, -1, 0, 0, 0, 0, -1, 0, 0, -1, 0, 0);
+            TossGround followed = tell(duel(9, 0, 0, 0, 0, 0), "margin 0");
+            followed.follow();
+            followed.anew();
+            match(followed, -1, 0, 0, 0, 0, -1, 0, 0, -1, 0, 0);
             due("again: none", x.anew(), 0);
             due("that is an act too", x.count(10), 6);
             due("the seed", x.seed(78), 77);
@@ -304,6 +312,10 @@ public final class TossGroundMatchEdgeTest extends TossGroundSentences {
             due("the seed stays", x.seed(1), 1);
             x.toss(0);
             due("the only session", x.play(), 2);
+            TossGround y = told("sessions 2", flat(1, 7, 3));
+            y.toss(1);
+            y.play();
+            match(y, 1, 0, 3, 0, 7, 1, 1, 0, -1, 0, 0);
             refuses("over", STATE, () -> x.play());
             due("the seed stays", x.seed(1), 1103527590);
         });
@@ -357,6 +369,22 @@ public final class TossGroundMatchEdgeTest extends TossGroundSentences {
             due("side 0", duel(9, 0).match(0), 0);
             due("side 1, the other one batting", duel(9, 1, 0, 0).match(0), 1);
             due("over", duel(1, 1, 0).match(0), 1);
+        });
+        says("1 INNINGS, 2 OUT, 3 and 4 RUNS of SIDE 0, 1", () -> {
+            match(duel(9, 0), 0, 0, 0, 0, 0);
+            match(duel(9, 0, 1, 3, 3), 0, 1, 1, 10, 1);
+            match(duel(9, 1, 1, 3, 3), 1, 1, 1, 1, 10);
+            match(duel(9, 1, 3, 0, 3, 0, 0, 0, 0, 0), 1, 3, 10, 1, 1);
+        });
+        says("7 1 if it followed on", () -> {
+            TossGround x = tell(duel(9, 0, 0, 0, 0, 0), "margin 0");
+            due("it may", x.match(7), 0);
+            x.follow();
+            due("it did", x.match(7), 1);
+            due("in innings 3", bring(x, 0, 0).match(7), 1);
+            due("over", bring(x, 3).match(7), 1);
+            x.anew();
+            due("in a new match", x.match(7), 0);
         });
         says("5 which SIDE bats (NONE ahead of the TOSS, or OVER)", () -> {
             due("ahead of the toss", new TossGround().match(5), -1);
@@ -504,6 +532,13 @@ public final class TossGroundMatchEdgeTest extends TossGroundSentences {
             undoes("a new match", duel(9, 0, 1, 0, 3), x -> x.anew());
             undoes("a new match ahead of the toss", duelGround(9), x -> x.anew());
             undoes("the seed told behind it", duel(9, 0), x -> x.seed(x.bring(3) + 41));
+            TossGround again = duel(9, 0, 3, 1, 3);
+            String before = all(again);
+            again.anew();
+            again.toss(1);
+            bring(again, 0, 3, 0, 2);
+            for (int i = 0; i < 6; i++) again.undo();
+            same("ahead of a new match and all of its sessions", all(again), before);
             TossGround x = duel(9, 0, 3);
             x.image();
             bring(x, 3);
@@ -550,8 +585,12 @@ public final class TossGroundMatchEdgeTest extends TossGroundSentences {
             x.seed(99);
             x.image();
             String kept = state(x);
-            lawOf(tell(x, "side 0 bat 1 bowl 1;slot 1 1 runs 1 outs 1;cloud 2;tide 2;rain 2;margin 1;drawworth 1;book 1 1 1"), "hard 0");
+            lawOf(tell(x, "side 0 bat 1 bowl 1;side 1 bat 2 bowl 2;cloud 2;tide 2;rain 2;margin 1;drawworth 1;book 1 1 1"), "hard 0;hard 1;hard 1 if tide");
+            for (int level = 0; level < 4; level++) tell(x, flat(level, 7, 8));
             bring(x, 1);
+            x.anew();
+            x.toss(1);
+            bring(x, 0, 2, 1);
             x.anew();
             tell(x, "sessions 2");
             x.seed(5);
@@ -561,14 +600,17 @@ public final class TossGroundMatchEdgeTest extends TossGroundSentences {
             same("all is as it was", state(x), kept);
             due("fault() stays", x.fault(), 7);
             due("the tape stays", x.ground() + x.count(1), 9);
+            tell(x, "book 1 0 2;side 1 bat 0 bowl 0");
             due("back again", x.back(), true);
             same("the image stays", state(x), kept);
-            bring(x, 3);
-            x.image();
-            String later = state(x);
-            x.anew();
-            x.back();
-            same("the one that was kept last", state(x), later);
+            TossGround y = duel(9, 0, 3);
+            y.image();
+            bring(y, 3);
+            y.image();
+            String later = state(y);
+            y.anew();
+            y.back();
+            same("the one that was kept last", state(y), later);
         });
         says("One goes back to THE IMAGE: true; false, and nothing happens, if none was kept", () -> {
             TossGround x = tape(duel(9, 0, 3), "margin 6");
@@ -611,11 +653,11 @@ public final class TossGroundMatchEdgeTest extends TossGroundSentences {
             due("sessions left, won ahead of the last one", duel(9, 0, 0, 0, 3, 0, 0, 0).count(9), 3);
         });
         says("An object is used for at most 512 calls after it has been made", () -> {
-            TossGround x = duelGround(9);
+            TossGround x = new TossGround();
             x.toss(0);
-            for (int i = 4; i < 499; i++) x.anew();
-            for (int i = 0; i < 12; i++) due("undo", x.undo(), true);
-            due("the 512th call", x.undo(), false);
+            for (int i = 2; i < 500; i++) x.anew();
+            for (int i = 500; i < 512; i++) due("call " + i, x.undo(), true);
+            due("call 512", x.undo(), false);
         });
     }
 

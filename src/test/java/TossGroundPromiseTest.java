@@ -586,28 +586,22 @@ public final class TossGroundPromiseTest extends TossGroundTools {
 
     /** Declaring by drawworth: a sure draw against a chance of both. */
     static void lines() {
-        // innings 2 with 4 left; the other one is bowled out behind, or passes
-        TossGround x = told("slot 1 0 runs 9 outs 5;slot 1 1 runs 0 outs 5;slot 1 2 runs 0 outs 5;slot 1 3 runs 1 outs 5", "sessions 4");
+        TossGround x = lineGround(40);
         int found = 0;
         for (int lead = -81; lead <= 81; lead++) {
             int line = x.line(2, 2, false, lead, 4);
             if (line == -1) continue;
             found++;
-            tell0(x, 0);
-            due(32, "by 0 it does", x.declares(2, 2, false, lead, 4), true);
-            tell0(x, line - 1);
-            due(32, "one below it does", x.declares(2, 2, false, lead, 4), true);
-            tell0(x, line);
-            due(32, "by the line it does not", x.declares(2, 2, false, lead, 4), false);
-            x.back();
+            for (int drawWorth : new int[] {0, line - 1, line}) {
+                due(32, "lead " + lead + " by " + drawWorth, lineGround(drawWorth).declares(2, 2, false, lead, 4), drawWorth < line);
+            }
         }
         due(32, "there are such leads", found > 0, true);
     }
 
-    static void tell0(TossGround x, int drawWorth) {
-        if (x.count(3) > 8) x.back();
-        x.image();
-        tell(x, "drawworth " + drawWorth);
+    /** Innings 2 with two sessions left: the other one is bowled out behind, or passes. */
+    static TossGround lineGround(int drawWorth) {
+        return told("slot 1 0 runs 9 outs 5;slot 1 1 runs 0 outs 5;slot 1 2 runs 0 outs 5;slot 1 3 runs 1 outs 5", "sessions 4;drawworth " + drawWorth);
     }
 
     static void p34() {
@@ -871,20 +865,21 @@ public final class TossGroundPromiseTest extends TossGroundTools {
 
     /** What holds of every ground, on long matches that no model counts one by one. */
     static void longMatches() {
+        for (int first = 0; first < 2; first++) longMatch(first);
+    }
+
+    static void longMatch(int first) {
         TossGround x = told("sessions 9;margin 5", "slot 0 0 runs 9 outs 1;slot 0 1 runs 5 outs 4;slot 0 2 runs 2 outs 7;slot 0 3 runs 7 outs 9",
             "slot 1 0 runs 8 outs 3;slot 1 1 runs 1 outs 6;slot 1 2 runs 4 outs 5;slot 1 3 runs 0 outs 9", flat(2, 1, 8), flat(3, 6, 6));
         lawOf(x, "hard 1 if session > 3;hard 1 if innings > 1;hard 1 if side < 1 and day > 1");
-        for (int first = 0; first < 2; first++) {
-            x.toss(first);
-            due(20, "worth of the toss", x.worth(first, 0), 100 * x.here(first) + 40 * x.here(2));
-            due(20, "worth to the other one", x.worth(1 - first, 1), 100 * x.here(1 - first) + 40 * x.here(2));
-            for (int i = 0; i < 9 && x.match(8) == -1; i++) {
-                due(19, "all ways", x.here(0) + x.here(1) + x.here(2), x.here(3));
-                due(40, "all ways", x.blind(0) + x.blind(1) + x.blind(2), x.blind(3));
-                best(x);
-                x.bring(i % 3);
-            }
-            x.anew();
+        x.toss(first);
+        due(20, "worth of the toss", x.worth(first, 0), 100 * x.here(first) + 40 * x.here(2));
+        due(20, "worth to the other one", x.worth(1 - first, 1), 100 * x.here(1 - first) + 40 * x.here(2));
+        for (int i = 0; i < 9 && x.match(8) == -1; i++) {
+            due(19, "all ways", x.here(0) + x.here(1) + x.here(2), x.here(3));
+            due(40, "all ways", x.blind(0) + x.blind(1) + x.blind(2), x.blind(3));
+            best(x);
+            x.bring(i % 3);
         }
     }
 

@@ -167,8 +167,7 @@ public final class TossGroundRefusalsEdgeTest extends TossGroundSentences {
             usesTape("signs, ahead of them a wrong text", ARGUMENT, bytes(wrong, 9), x -> x.signs(0, 0, true));
         });
         says("(also by one that is refused)", () -> {
-            TossGround x = lawOf(tell(duel(9, 0, 3), "margin 3", "", "", "", "", "", "", "", "", ""), "hard 2");
-            bring(x, 3);
+            TossGround x = bring(lawOf(tell(duel(9, 0, 3), "margin 3"), "hard 2"), 3);
             String before = all(x);
             refuses("a wrong ground", ARGUMENT, () -> tape(x, "margin 4;margin x").ground());
             due("its fault", x.fault(), 16);
@@ -178,7 +177,7 @@ public final class TossGroundRefusalsEdgeTest extends TossGroundSentences {
             due("its fault", x.fault(), 17);
             due("the tape is used up", x.end(1), false);
             same("nothing of it", all(x), before);
-            TossGround full = bring(tell(x, ""), 3);
+            TossGround full = bring(tell(duel(9, 0, 3), "margin 3", "", "", "", "", "", "", "", "", "", ""), 3);
             String with12 = all(full);
             due("texts", full.count(3), 12);
             refuses("a right ground, but there are 12", UNSUPPORTED, () -> tape(full, "margin 4").ground());

@@ -104,6 +104,19 @@ public final class TossGroundTextsEdgeTest extends TossGroundSentences {
             due("more tide", x.count(7), 3);
             due("rain that was", x.count(8), 4);
         });
+        says("cloud K { K } | tide K { K } | rain K { K }", () -> {
+            rightGrounds("cloud 1", "tide 1", "rain 1", "cloud 1 2", "tide 1 2 3", "rain 8 7 6 5 4 3 2 1 0", "cloud 1 1");
+            wrongGrounds("cloud^", "tide^", "rain^", "cloud ^;cloud 1", "tide ^rain 1", "rain ^x", "cloud 1 ^x", "cloud 1 ^tide 1", "rain 1 2 ^book 0 0 0");
+        });
+        says("sessions S | side S bat N bowl N | slot L K runs N outs N", () -> {
+            rightGrounds("sessions 1", "side 0 bat 0 bowl 0", "slot 0 0 runs 0 outs 0");
+            wrongGrounds("sessions^", "sessions 1 ^1", "side 0 ^1 bowl 1", "side 0 bat 1 ^1", "side 0 bat 1 bowl 1 ^1", "side ^bat 1 bowl 1", "side 0 bat ^bowl 1", "slot 0 ^runs 1 outs 1", "slot ^runs 1 outs 1",
+                "slot 0 0 ^1 outs 1", "slot 0 0 runs 1 ^1", "slot 0 0 runs ^outs 1", "slot 0 0 ^0 runs 1 outs 1", "slot 0 0 runs 1 outs 1 ^outs 1");
+        });
+        says("margin N | drawworth N | book T B W", () -> {
+            rightGrounds("margin 0", "drawworth 0", "book 0 0 0");
+            wrongGrounds("margin^", "margin 1 ^1", "drawworth^", "drawworth 1 ^1", "book^", "book 0 0^", "book 0 0 ^;book 0 0 0", "book 0 0 0 ^0", "book 0 ^won 0");
+        });
         says("sessions: only ahead of the TOSS (else that word is wrong)", () -> {
             TossGround x = told("sessions 2");
             x.toss(0);
@@ -180,11 +193,33 @@ public final class TossGroundTextsEdgeTest extends TossGroundSentences {
             due("as many are not more", level("hard 1 if 4 > 4"), 0);
             due("the greatest numbers together", level("hard 1 if 999 + 999 > 999 + 998"), 1);
         });
+        says("C: ALL { or ALL }; ALL: ATOM { and ATOM }; ATOM: not ATOM | ( C ) | cloud | tide", () -> {
+            String[] laws = {"0 < 1 or 1 < 0", "1 < 0 or 0 < 1", "1 < 0 or 1 < 0", "1 < 0 or 1 < 0 or 0 < 1", "0 < 1 and 1 < 0", "1 < 0 and 0 < 1", "0 < 1 and 0 < 1", "0 < 1 and 0 < 1 and 1 < 0",
+                "0 < 1 or 0 < 1 and 1 < 0", "1 < 0 and 1 < 0 or 0 < 1", "(0 < 1 or 0 < 1) and 1 < 0", "not 0 < 1", "not 1 < 0", "not not 0 < 1", "not 1 < 0 and 1 < 0", "not (1 < 0 and 1 < 0)", "not 0 < 1 or 0 < 1", "not (0 < 1 or 0 < 1)",
+                "cloud", "tide", "not cloud"};
+            int[] want = {1, 1, 0, 1, 0, 0, 1, 0, 1, 1, 0, 0, 1, 1, 0, 1, 1, 0, 0, 0, 1};
+            for (int i = 0; i < laws.length; i++) due(laws[i], level("hard 1 if " + laws[i]), want[i]);
+        });
+        says("SUM: PART { + PART }; PART: NUMBER | session | day | innings | side | bat | bowl", () -> {
+            TossGround x = told("sessions 9;side 0 bat 1 bowl 2;side 1 bat 3 bowl 4");
+            String[] parts = {"session", "day", "innings", "side", "bat", "bowl", "999", "0", "session + 1", "1 + 2 + 3", "bat + bowl", "session + day + innings + side + bat + bowl + 7"};
+            int[] first = {0, 0, 0, 0, 1, 4, 999, 0, 1, 6, 5, 12};
+            int[] last = {8, 2, 3, 1, 3, 2, 999, 0, 9, 6, 5, 26};
+            for (int i = 0; i < parts.length; i++) {
+                lawOf(x, "hard 1 if " + parts[i] + " < " + first[i] + " + 1;hard 2 if " + parts[i] + " + 1 > " + first[i]);
+                due(parts[i] + " of the first session, innings 0, side 0", x.level(0, 0, 0), 3);
+                lawOf(x, "hard 1 if " + last[i] + " + 1 > " + parts[i] + ";hard 2 if " + last[i] + " < 1 + " + parts[i]);
+                due(parts[i] + " of the last session, innings 3, side 1", x.level(8, 3, 1), 3);
+            }
+            int[] days = {0, 0, 0, 1, 1, 1, 2, 2, 2};
+            lawOf(x, "hard 1 if day > 0;hard 1 if day > 1");
+            for (int session = 0; session < 9; session++) due("day of session " + session, x.level(session, 0, 0), days[session]);
+        });
         says("side: who bats; bat: BAT of that one, bowl: BOWL of the other one; cloud, tide: of that SESSION", () -> {
-            TossGround x = told("sessions 9;side 0 bat 0 bowl 9;side 1 bat 9 bowl 0;cloud 0;tide 8");
-            lawOf(x, "hard 1 if bat > 8;hard 2 if bowl > 8");
-            due("side 0: bat 0, and 0 bowled by side 1", x.level(0, 0, 0), 0);
-            due("side 1: bat 9, and 9 bowled by side 0", x.level(0, 0, 1), 3);
+            TossGround x = told("sessions 9;side 0 bat 0 bowl 9;side 1 bat 8 bowl 1;cloud 0;tide 8");
+            lawOf(x, "hard 1 if bat > 7;hard 2 if bowl > 8");
+            due("side 0: bat 0, and 1 bowled by side 1", x.level(0, 0, 0), 0);
+            due("side 1: bat 8, and 9 bowled by side 0", x.level(0, 0, 1), 3);
             lawOf(x, "hard 1 if cloud;hard 2 if tide;hard 1 if side > 0");
             due("cloud of the first session", x.level(0, 0, 0), 1);
             due("none beside it", x.level(1, 0, 0), 0);
@@ -205,7 +240,7 @@ public final class TossGroundTextsEdgeTest extends TossGroundSentences {
         says("Words are as long as a to z go on", () -> {
             rightGrounds("margin5", "side0bat1bowl2", "slot1 2runs3outs4", "cloud0 1;tide2");
             rightLaws("hard1if session<day+1or cloud and(tide)", "hard 1if not(tide)", "hard 1 if bat+1<bowl");
-            wrongGrounds("^margins 5", "^amargin 5", "side 0^batbowl 1", "^sidebat 0", "^mar gin 5", "margin^", "^azmargin 5", "^zmargin 5");
+            wrongGrounds("^margins 5", "^amargin 5", "side 0^batbowl 1", "^sidebat 0", "^mar gin 5", "margin^", "^azmargin 5", "^zmargin 5", "^marginz 5", "^margina 5");
             wrongLaws("hard 1 ^ifcloud", "hard 1 if ^nottide", "hard 1 if cloud ^andtide", "hard 1 if ^sessions < 1", "^ha rd 1", "hard 1 if ^cl oud");
             wrongGrounds("^Margin 5", "margin 5 ^Z", "^`margin 5", "^{margin 5", "margin^`5", "margin^{5");
         });
@@ -241,9 +276,15 @@ public final class TossGroundTextsEdgeTest extends TossGroundSentences {
     static void wrongBytes() {
         says("the begin of the first thing that cannot stand there", () -> {
             wrongGrounds("margin ^cloud", "^5 margin", "margin 5 ;^; cloud 9", "margin 5^,cloud 9", "cloud 1 ^rain 9", "cloud ^;margin 100", "side 0 ^bowl 1 bat 1", "slot 1 1 ^outs 1 runs 1",
-                "slot 1 ^runs 1 outs 1", "margin ^-1", "margin ^(5)", "book 1 1 1 ^1");
-            wrongLaws("hard 1 ^2", "hard ^if cloud", "hard 1 if ^)", "hard 1 if (^)", "hard 1 if cloud^)", "hard 1 if (cloud^;hard 1", "hard 1 if cloud ^tide", "hard 1 if 1 < 2 ^< 3", "hard 1 if 1 + ^< 2",
+                "slot 1 ^runs 1 outs 1", "side 0 ^1 bowl 1", "side 0 bat 1 ^1", "slot 0 0 ^1 outs 1", "slot 0 0 runs 1 ^1", "margin ^-1", "margin ^(5)", "book 1 1 1 ^1");
+            wrongLaws("^1", "^1 if cloud", "hard 1 ^2", "hard 1 if 1 ^2", "hard 1 if bat ^bowl", "hard ^if cloud", "hard 1 if ^)", "hard 1 if (^)", "hard 1 if cloud^)", "hard 1 if (cloud^;hard 1", "hard 1 if cloud ^tide", "hard 1 if 1 < 2 ^< 3", "hard 1 if 1 + ^< 2",
                 "hard 1 if 1 ^= 2", "hard 1 if (1^) < 2", "hard 1 if cloud ^+ 1 < 2", "hard 1 if 1 < ^cloud", "hard 1 if ^+ 1 < 2", "hard 1 if 1 ^and cloud", "hard 1 if cloud and ^or tide", "hard ^-1", "hard 1^,");
+        });
+        says("if it would have more than 400", () -> {
+            wrongGrounds("^" + times(";", 400, ""), "margin^" + times("(", 394, ""), times(" ", 399, "") + "^" + (char) 255);
+            wrongLaws("^" + times("<", 400, ""), "hard 1 ^" + times("1 ", 196, ""), "hard 1 if ^" + times("+", 390, ""));
+            rightGrounds(times(" ", 400, ""), "cloud" + times(" 8", 197, "") + " ");
+            rightLaws("hard 1 if 0" + times("+1", 193, "") + "<1");
         });
         says("a number of more digits", () -> {
             wrongGrounds("margin ^0001", "margin 1;margin ^00000000000000000001", "cloud 1 ^0001 9", "drawworth ^1000");
@@ -333,6 +374,22 @@ public final class TossGroundTextsEdgeTest extends TossGroundSentences {
             tape(x, "margin 5");
             due("none of them", x.end(0), true);
             due("an empty text", x.ground() + x.count(1), 9);
+        });
+        says("Uses the TAPE up", () -> {
+            TossGround x = duel(2, 0);
+            x.feed(1, 0x04ff04ff, 0x04ff04ff, -1, -1);
+            x.end(4);
+            due("signs of the first four bytes", x.signs(2, 0, true), 1);
+            x.feed(1, 0x04ff04ff, 0x04ff04ff, -1, -1);
+            x.end(4);
+            due("best of the first four bytes", x.best(true, true), 1);
+            due("no bytes are left for it", x.best(false, true), 0);
+            x.feed(0x0303ffff, -1, -1, -1, -1);
+            x.end(2);
+            due("swing by the first two bytes", x.swing(), 2);
+            x.feed(0x68617264, 0x20316a6a, -1, -1, -1);
+            x.end(6);
+            due("a law by the first six bytes", x.law(), 1);
         });
         says("false, and nothing happens, if it has fewer, or n is below 0", () -> {
             TossGround x = tape(new TossGround(), "margin 7");

@@ -34,9 +34,12 @@ public final class TossGroundWaysEdgeTest extends TossGroundSentences {
         return bring(x, slots);
     }
 
-    /** Innings 2 is asked for a follow on, with a lead of 5 and three sessions left: made, side 0 wins all ways; else all are draws. */
+    /**
+     * Innings 2 is asked for a follow on, with a lead of 5 and three sessions left: made, side 1 is out in two,
+     * and side 0 wins all ways; else all are draws.
+     */
     static TossGround followMatch(int drawWorth) {
-        TossGround x = told("sessions 5;margin 5;drawworth " + drawWorth, flat(0, 0, 0), flat(1, 0, 9), flat(2, 5, 0));
+        TossGround x = told("sessions 5;margin 5;drawworth " + drawWorth, flat(0, 0, 0), flat(1, 0, 5), flat(2, 5, 0));
         lawOf(x, "hard 2 if innings < 1;hard 1 if innings > 1 and innings < 3 and side > 0");
         x.toss(0);
         return declared(declared(bring(x, 0), 0));
@@ -50,10 +53,27 @@ public final class TossGroundWaysEdgeTest extends TossGroundSentences {
         return declared(declared(declared(bring(x, 0), 0), 0), 0);
     }
 
-    /** By a drawworth of 0: side 0 wins all 1024 ways if it bats first; none of either side, if side 1 does. */
-    static TossGround tossGround() {
-        TossGround x = told("sessions 5;margin 5;drawworth 0", flat(0, 0, 9), flat(1, 0, 0), flat(2, 9, 9));
+    /** If side 0 bats first, it wins all 1024 ways; if side 1 does, all are draws. */
+    static TossGround tossGround(int drawWorth) {
+        TossGround x = told("sessions 5;margin 5;drawworth " + drawWorth, flat(0, 0, 9), flat(1, 0, 0), flat(2, 9, 9));
         return lawOf(x, "hard 1 if side > 0 and innings < 1;hard 2 if side < 1");
+    }
+
+    /** The same the other way round. */
+    static TossGround turnedTossGround(int drawWorth) {
+        return lawOf(tossGround(drawWorth), "hard 1 if side < 1 and innings < 1;hard 2 if side > 0");
+    }
+
+    /** Who bats first makes 1 run each session, the other one 5, all are out in two: who fields wins all 65536 ways. */
+    static TossGround fieldGround() {
+        return lawOf(told(flat(0, 5, 9), flat(1, 1, 9), "sessions 8;margin 99;drawworth 10"), "hard 1 if innings < 1 or innings > 1 and innings < 3");
+    }
+
+    static void toss(TossGround x, int side, long bats, long fields, long better, long left) {
+        due("side " + side + " bats", x.worth(side, 0), bats);
+        due("side " + side + " fields", x.worth(side, 1), fields);
+        due("side " + side + ", the better less the other one", x.worth(side, 2), better);
+        due("left to side " + side, x.worth(side, 3), left);
     }
 
     static void here(String what, TossGround x, long side0, long side1, long nobody) {
@@ -101,8 +121,8 @@ public final class TossGroundWaysEdgeTest extends TossGroundSentences {
             wins("a draw by the first of two", y, 0, 3, false, 0, 9, 0, 0, 16);
         });
         says("WORTH to a SIDE: 100 times the ways in which it wins and DRAWWORTH times those of a draw", () -> {
-            due("wins alone", tossGround().worth(0, 0), 102400);
-            due("losses alone", tossGround().worth(1, 1), 0);
+            due("wins alone", tossGround(0).worth(0, 0), 102400);
+            due("losses alone", tossGround(0).worth(1, 1), 0);
             due("draws alone", told("sessions 1;drawworth 7").worth(1, 0), 28);
             due("2 wins, less 4 draws", holdMatch(49).cost(3), 200 - 196);
             due("4 draws, less 2 wins", holdMatch(51).cost(0), 204 - 200);
@@ -134,6 +154,40 @@ public final class TossGroundWaysEdgeTest extends TossGroundSentences {
             wins("204 and 200", holdGround(51), 0, 3, false, -3, 9, 0, 0, 4);
             here("200 and 200", holdMatch(50), 2, 2, 0);
             here("204 and 200", holdMatch(51), 0, 0, 4);
+            TossGround one = told("sessions 1;drawworth 67", "slot 1 0 runs 4 outs 0;slot 1 1 runs 4 outs 0;slot 1 2 runs 0 outs 1;slot 1 3 runs 0 outs 0");
+            wins("268 and 267", one, 0, 3, false, -3, 9, 0, 0, 4);
+            due("268 and 267", one.holds(0, false, -3, 9), true);
+            wins("264 and 266", tell(one, "drawworth 66"), 0, 3, false, -3, 9, 2, 1, 1);
+            due("264 and 266", one.holds(0, false, -3, 9), false);
+        });
+        says("All are counted, both captains choosing best from now on", () -> {
+            TossGround x = told("sessions 2", flat(1, 0, 2));
+            due("now or later: it may hold later", x.holds(0, false, -1, 6), false);
+            due("it may hold later", x.turnover(0, 6), 81);
+            due("it must hold now", x.turnover(0, 7), 0);
+            wins("held once", x, 0, 3, false, -1, 6, 0, 0, 16);
+            TossGround y = told("sessions 2", flat(1, 0, 5));
+            due("5 and 4 out, held once", y.chased(0), 81);
+            due("declaring wins nothing, as it is held", y.declares(0, 2, false, 5, 0), false);
+            due("by no lead", y.when(0, 0), -99);
+            due("by a drawworth of 0 nobody holds", y.line(0, 2, false, 5, 0), 1);
+            TossGround z = lawOf(followMatch(40), "hard 2 if innings < 1;hard 1 if innings > 1 and side > 0");
+            tell(z, flat(1, 0, 9));
+            due("declaring later is as good as a follow on", z.enforces(2, 5), false);
+            here("declared later", z, 64, 0, 0);
+            due("so that costs nothing", z.cost(0) + z.cost(2), 0);
+            due("behind the next session it is declared", z.after(0, 0), 16);
+            due("no slot is better", z.turning(false) * 10 + z.turning(true), 0);
+        });
+        says("OUT: how many are in this INNINGS", () -> {
+            TossGround x = told("sessions 5", flat(0, 3, 0), flat(1, 0, 0), flat(2, 0, 2), flat(3, 0, 9));
+            lawOf(x, "hard 1 if innings > 0;hard 2 if innings > 2 and session < 4;hard 1 if innings > 2 and session > 3");
+            x.toss(0);
+            declared(declared(declared(bring(x, 0), 0), 0));
+            here("8 and 1 are 9, held twice", x, 0, 0, 16);
+            due("not held: 9 and 1 are 10", x.cost(0), 640);
+            due("held", x.cost(3), 0);
+            due("never held", x.blind(0), 16);
         });
     }
 
@@ -153,27 +207,22 @@ public final class TossGroundWaysEdgeTest extends TossGroundSentences {
             here("over, none left", duel(7, 0, 0, 0, 0, 0, 0, 0, 3), 0, 1, 0);
         });
         says("TOSS, as a new MATCH: WORTH to a SIDE, if it bats first; if it fields; the better less the other one", () -> {
-            TossGround x = tossGround();
-            due("side 0 bats", x.worth(0, 0), 102400);
-            due("side 0 fields", x.worth(0, 1), 0);
-            due("side 0, the better", x.worth(0, 2), 102400);
-            due("side 1 bats", x.worth(1, 0), 0);
-            due("side 1 fields", x.worth(1, 1), 0);
-            due("side 1, as good", x.worth(1, 2), 0);
-            TossGround y = lawOf(tell(told(flat(0, 5, 9), flat(1, 1, 9)), "sessions 8;margin 99;drawworth 10"), "hard 1 if innings < 1 or innings > 1 and innings < 3");
-            due("who fields wins", y.worth(0, 1), 6553600);
-            due("fielding is the better, less 0", y.worth(0, 2), 6553600);
+            TossGround x = tossGround(40);
+            toss(x, 0, 102400, 40960, 61440, 40960);
+            toss(x, 1, 40960, 0, 40960, 0);
+            toss(turnedTossGround(40), 1, 102400, 40960, 61440, 40960);
+            toss(turnedTossGround(40), 0, 40960, 0, 40960, 0);
+            toss(fieldGround(), 0, 0, 6553600, 6553600, 0);
+            toss(fieldGround(), 1, 0, 6553600, 6553600, 0);
             x.toss(1);
-            due("whatever match is on", bring(x, 0).worth(0, 0), 102400);
+            toss(bring(x, 0), 0, 102400, 40960, 61440, 40960);
+            due("both begin level: out level, draws", told("sessions 8;margin 99", flat(1, 0, 9)).worth(0, 0), 40 * 65536);
         });
         says("LEFT to the other one: WORTH that a SIDE has, if the other one chooses the better for itself (a tie: bats)", () -> {
-            due("side 1 has 0 by both, so it bats", tossGround().worth(0, 3), 0);
-            due("side 0 bats, that is the better for it", tossGround().worth(1, 3), 0);
-            TossGround x = lawOf(tossGround(), "hard 1 if side < 1 and innings < 1;hard 2 if side > 0");
-            due("the other way round, a tie of side 0", x.worth(1, 3), 0);
-            due("it wins by batting first", x.worth(1, 0), 102400);
-            TossGround y = lawOf(tell(told(flat(0, 5, 9), flat(1, 1, 9)), "sessions 8;margin 99;drawworth 10"), "hard 1 if innings < 1 or innings > 1 and innings < 3");
-            due("the other one fields and wins", y.worth(0, 3), 0);
+            toss(tossGround(0), 0, 102400, 0, 102400, 0);
+            toss(tossGround(0), 1, 0, 0, 0, 0);
+            toss(turnedTossGround(0), 1, 102400, 0, 102400, 0);
+            toss(turnedTossGround(0), 0, 0, 0, 0, 0);
         });
         says("what 0 it bats first, 1 it fields, 2 the better less the other one, 3 LEFT to the other one. NoSuchElementException: another what", () -> {
             within("side", INDEX, 0, 1, n -> told("sessions 1").worth(n, 0));
@@ -181,18 +230,23 @@ public final class TossGroundWaysEdgeTest extends TossGroundSentences {
             refuses("neither is", INDEX, () -> told("sessions 1").worth(2, 4));
         });
         says("EVENS of a SIDE: its WORTH, if it chooses the better for itself, and LEFT, together", () -> {
-            due("102400 and 0", tossGround().evens(0), 102400);
-            due("0 and 0", tossGround().evens(1), 0);
+            due("102400 and 40960", tossGround(40).evens(0), 143360);
+            due("40960 and 0", tossGround(40).evens(1), 40960);
+            due("102400 and 0, a tie", tossGround(0).evens(0), 102400);
+            due("0 and 0", tossGround(0).evens(1), 0);
+            due("6553600 by fielding and 0", fieldGround().evens(1), 6553600);
             due("all draws", told("sessions 1").evens(1), 320);
             within("side", INDEX, 0, 1, n -> told("sessions 1").evens(n));
         });
         says("in how many old matches who won the toss chose what is the better for it here now (a tie: either)", () -> {
-            TossGround x = tossGround();
+            String books = "book 0 0 0;book 0 1 0;book 0 1 1;book 1 0 0;book 1 0 1;book 1 0 2;book 1 1 0;book 1 1 1;book 1 1 2;book 1 1 2";
+            TossGround x = tossGround(0);
             due("no old matches", x.well(), 0);
-            tell(x, "book 1 0 0;book 1 1 0;book 0 0 0;book 0 1 0");
-            due("side 1 either, side 0 batting", x.well(), 3);
-            lawOf(x, "hard 1");
-            due("here now all are draws", x.well(), 4);
+            due("side 0 had better bat, side 1 either", tell(x, books).well(), 1 + 7);
+            due("side 1 had better bat, side 0 either", tell(turnedTossGround(0), books).well(), 3 + 4);
+            due("both had better bat", tell(tossGround(40), books).well(), 1 + 4);
+            due("both had better field", tell(fieldGround(), books).well(), 2 + 3);
+            due("here now: all are draws", lawOf(x, "hard 1").well(), 10);
         });
     }
 
@@ -236,6 +290,20 @@ public final class TossGroundWaysEdgeTest extends TossGroundSentences {
                     due("line", z.line(4, innings, true, lead, 3), z.line(4, innings, false, lead, 3));
                 }
             }
+        });
+        says("SIDE 0 batted first", () -> {
+            TossGround x = lawOf(told("sessions 1;drawworth 51", flat(0, 0, 0), halves(1, 4, 1)), "hard 1 if side > 0");
+            due("side 1 holds", x.holds(0, false, -3, 9), true);
+            due("side 0, who followed on", x.holds(0, true, -3, 9), false);
+            due("side 1 turns over", x.turnover(0, 9), 0);
+            wins("side 1 plays for a draw", x, 0, 3, false, -3, 8, 2, 0, 2);
+            TossGround y = lawOf(declareGround(24), "hard 1;hard 1 if side > 0");
+            due("side 1 chases", y.declares(0, 2, false, 5, 0), true);
+            due("side 1 chases", y.when(0, 0), 1);
+            due("side 1 chases", y.line(0, 2, false, 5, 0), 25);
+            due("side 1 chases, 4 ways of both", y.chased(0), 17);
+            due("side 0 made side 1 follow on", followMatch(40).enforces(2, 5), true);
+            due("side 0 gets nothing", lawOf(followMatch(40), "hard 2 if innings < 1;hard 1 if innings > 1 and innings < 3 and side < 1").enforces(2, 5), false);
         });
         says("LEAD of the SIDE that bats (-81 to 81)", () -> {
             TossGround x = told("sessions 2");
@@ -302,6 +370,10 @@ public final class TossGroundWaysEdgeTest extends TossGroundSentences {
             TossGround y = lawOf(declareGround(24), "hard 1;hard 1 if side > 0");
             due("4 wins of 16 by any lead of 1 to 8", y.when(0, 0), 1);
             due("by a lead of 0 they would be draws", y.declares(0, 2, false, 0, 0), false);
+            TossGround most = told("sessions 9;drawworth 99", flat(1, 0, 0), flat(2, 9, 0), "slot 2 3 runs 0 outs 9");
+            lawOf(most, "hard 1;hard 1 if innings > 2");
+            for (int left = 2; left <= 9; left++) due("only if nine each session are too few: " + left, most.when(9 - left, 0), 9 * left);
+            due("with one session nobody is out", most.when(8, 0), -99);
             TossGround level = lawOf(told("sessions 3", flat(0, 0, 9), flat(1, 9, 9)), "hard 1 if session > 1");
             due("by a lead of 0 it makes a draw of a loss", level.when(0, 1), 0);
         });
@@ -313,6 +385,7 @@ public final class TossGroundWaysEdgeTest extends TossGroundSentences {
         says("the least DRAWWORTH (0 to 100) by which the SIDE that bats does not DECLARE in a STATE in which it does by a DRAWWORTH of 0; none (also if it does not by 0)", () -> {
             for (int drawWorth : new int[] {0, 25, 100}) due("16 draws of 25 for 4 wins", declareGround(drawWorth).line(0, 2, false, 5, 0), 25);
             due("16 draws of 100 for 16 wins", told(flat(1, 1, 9)).line(4, 2, false, 3, 0), 100);
+            due("who is out in five sessions holds, if a draw is worth anything", new TossGround().line(1, 2, false, 20, 0), 1);
             due("it does not by 0", told(flat(1, 1, 9)).line(4, 2, false, 2, 0), -1);
             TossGround x = lawOf(told("sessions 3;drawworth 100", flat(0, 0, 9), flat(1, 9, 9)), "hard 1 if session > 1");
             due("it does by 100", x.declares(0, 2, false, 3, 1), true);
@@ -320,6 +393,27 @@ public final class TossGroundWaysEdgeTest extends TossGroundSentences {
             due("the drawworth stays", x.count(2), 100);
             due("innings 3, in which it holds", holdGround(0).line(0, 3, false, -3, 9), -1);
             due("no session is left", declareGround(0).line(2, 2, false, 5, 0), -1);
+        });
+    }
+
+    static void refusedStates() {
+        says("IllegalArgumentException: LEAD, OUT are none", () -> {
+            TossGround x = told("sessions 2");
+            within("declares, lead", ARGUMENT, -81, 81, n -> x.declares(2, 3, true, n, 9));
+            within("declares, out", ARGUMENT, 0, 9, n -> x.declares(2, 3, true, 81, n));
+            within("holds, lead", ARGUMENT, -81, 81, n -> x.holds(2, true, n, 9));
+            within("holds, out", ARGUMENT, 0, 9, n -> x.holds(2, true, -81, n));
+        });
+        says("IllegalArgumentException: OUT is none", () -> {
+            within("when", ARGUMENT, 0, 9, n -> told("sessions 2").when(2, n));
+            within("turnover", ARGUMENT, 0, 9, n -> told("sessions 2").turnover(2, n));
+        });
+        says("ENFORCES. IllegalArgumentException: LEAD is none", () -> within("lead", ARGUMENT, -81, 81, n -> told("sessions 2;margin 0").enforces(0, n)));
+        says("LINE; NONE. IllegalArgumentException: LEAD, OUT are none", () -> {
+            TossGround x = told("sessions 2", flat(1, 0, 0));
+            due("nothing ever comes", x.line(0, 0, false, 0, 0), -1);
+            within("lead", ARGUMENT, -81, 81, n -> x.line(2, 3, true, n, 0));
+            within("out", ARGUMENT, 0, 9, n -> x.line(2, 3, true, 0, n));
         });
     }
 
@@ -332,6 +426,8 @@ public final class TossGroundWaysEdgeTest extends TossGroundSentences {
             due("a lead of 0, margin 0: out level, a draw", tell(followMatch(40), "margin 0").enforces(2, 0), false);
             due("as much", followMatch(100).enforces(2, 5), false);
             due("two sessions are left", followMatch(40).enforces(3, 5), true);
+            due("9 out in three sessions", tell(followMatch(40), flat(1, 0, 3)).enforces(2, 5), false);
+            due("two sessions are left, by a lead of 1", tell(followMatch(40), "margin 1").enforces(3, 1), true);
             due("one session is left", followMatch(40).enforces(4, 5), false);
             due("none is left", followMatch(40).enforces(5, 5), false);
             refuses("lead 82", ARGUMENT, () -> followMatch(40).enforces(5, 82));
@@ -341,6 +437,9 @@ public final class TossGroundWaysEdgeTest extends TossGroundSentences {
             TossGround x = lawOf(told("sessions 2", flat(0, 0, 9), halves(1, 9, 9)), "hard 1 if session > 0");
             wins("8 behind", x, 0, 3, false, -8, 0, 8, 8, 0);
             due("8 ways of both", x.chased(0), 8);
+            TossGround out9 = lawOf(told("sessions 3", flat(0, 0, 9), halves(1, 9, 9), flat(2, 0, 2)), "hard 2 if session > 0 and session < 2;hard 1 if session > 1");
+            wins("9 out by holding twice", out9, 0, 3, false, -8, 0, 32, 32, 0);
+            due("9 out by holding twice, 32 ways of both", out9.chased(0), 8);
             due("one session is left: it cannot lose", x.chased(1), 81);
             due("none is left", x.chased(2), 81);
             due("out in two sessions with 2 runs: 2 behind is a draw", told(flat(1, 1, 9)).chased(4), 2);
@@ -362,6 +461,7 @@ public final class TossGroundWaysEdgeTest extends TossGroundSentences {
             due("1 out: who holds bats on, however far behind", x.turnover(0, 1), -1);
             due("0 out: it bats on anyway", x.turnover(0, 0), 81);
             due("2 out: it is out anyway", x.turnover(0, 2), 81);
+            due("8 out: level is a draw, behind it would lose", told("sessions 1", flat(1, 0, 2)).turnover(0, 8), 0);
             due("none is left", x.turnover(2, 1), 81);
             TossGround y = told("slot 1 0 runs 4 outs 2");
             due("8 out: 3 behind it wins or draws, 4 behind it would lose", y.turnover(5, 8), 3);
@@ -412,6 +512,8 @@ public final class TossGroundWaysEdgeTest extends TossGroundSentences {
                 tell(x, flat(1, 1, 0), "slot 1 3 runs 0 outs 0");
                 due("slot 3 draws", x.turning(true), 3);
             }
+            TossGround beside = tell(duel(7, 0, 0, 0, 0, 0, 0, 0), flat(1, 0, 0), flat(2, 9, 0), flat(0, 9, 0));
+            due("of four slots of one level", beside.turning(false) * 10 + beside.turning(true), 0);
             TossGround all = duel(1, 0);
             due("all draw, the best", all.turning(false), 0);
             due("all draw, the worst", all.turning(true), 0);
@@ -566,6 +668,7 @@ public final class TossGroundWaysEdgeTest extends TossGroundSentences {
             due("draws alone", told("book 0 0 2;book 0 1 2").habit(true), true);
             due("1 and 1", told("book 0 0 0;book 0 0 1").habit(true), true);
             due("1 and 1, the other one batting", told("book 0 1 1;book 0 1 0;book 0 0 2").habit(true), true);
+            due("1 and 1, who won the toss lost", told("book 0 1 1;book 0 0 1").habit(true), true);
             due("1 and 0", told("book 0 0 0").habit(true), false);
             due("0 and 1", told("book 0 0 1").habit(true), false);
             due("2 and 1", told("book 0 0 0;book 1 1 1;book 0 1 0").habit(true), false);
@@ -630,6 +733,14 @@ public final class TossGroundWaysEdgeTest extends TossGroundSentences {
             within("value", ARGUMENT, 0, 3, n -> x.signs(0, n, true));
             refuses("sign 3 of a right tape", ARGUMENT, () -> bytes(x, 0, 0, 0, 0).signs(3, 0, false));
             due("the tape is used up", x.end(1), false);
+        });
+        says("BEST (rule false: a sign), or RULE: which (many false), or how many. IllegalArgumentException: the TAPE is not that", () -> {
+            TossGround x = new TossGround();
+            refuses("three bytes", ARGUMENT, () -> bytes(x, 0, 0, 0).best(false, true));
+            due("the tape is used up", x.end(1), false);
+            refuses("five bytes", ARGUMENT, () -> bytes(x, 0, 0, 0, 0, 0).best(true, false));
+            refuses("the last one is 2", ARGUMENT, () -> bytes(x, 0, 0, 0, 1, 3, 3, 3, 2).best(true, true));
+            due("no bytes", x.best(true, true), 0);
         });
         says("that by whose values most mornings are told right (by each value as it mostly was; a tie: either): which (of several the first), how many", () -> {
             best("none is told", false, 0, 0);
@@ -700,6 +811,74 @@ public final class TossGroundWaysEdgeTest extends TossGroundSentences {
         });
     }
 
+    /** One question, and what it answers. */
+    interface Question {
+        long of(TossGround x);
+    }
+
+    static void questions() {
+        Question[] asked = {x -> x.here(0), x -> x.blind(2), x -> x.after(0, 0), x -> x.cost(0), x -> x.turning(false), x -> x.worth(0, 0), x -> x.worth(1, 0), x -> x.evens(0),
+            x -> x.wins(3, 2, false, 5, 0, 0), x -> x.when(3, 0), x -> x.line(3, 2, false, 5, 0), x -> x.chased(3), x -> x.holds(4, false, -3, 9) ? 1 : 0, x -> x.enforces(2, 20) ? 1 : 0, x -> x.target(false),
+            x -> bytes(x, 0, 0, 0).swing(), x -> x.level(4, 3, 1)};
+        says("Nothing is promised beyond the answers and state changes described above", () -> {
+            for (int i = 0; i < asked.length; i++) {
+                for (int j = 0; j < asked.length; j++) {
+                    TossGround x = questionMatch();
+                    answer(asked[i], x);
+                    due("question " + j + " behind question " + i, answer(asked[j], x), answer(asked[j], questionMatch()));
+                }
+            }
+        });
+        says("from THE MATCH as it is", () -> {
+            String text = "drawworth 60;slot 2 0 runs 1 outs 9;slot 2 2 runs 3 outs 9;rain 3";
+            for (int i = 0; i < asked.length; i++) {
+                TossGround x = questionMatch();
+                x.image();
+                long before = answer(asked[i], x);
+                tell(x, text);
+                due("question " + i + " behind a text", answer(asked[i], x), answer(asked[i], tell(questionMatch(), text)));
+                lawOf(x, "hard 2");
+                due("question " + i + " behind a law", answer(asked[i], x), answer(asked[i], lawOf(tell(questionMatch(), text), "hard 2")));
+                x.back();
+                due("question " + i + " gone back", answer(asked[i], x), before);
+            }
+        });
+    }
+
+    /** All leads asked of one object, one behind another, are as each asked of a new one. */
+    static void allLeads() {
+        says("(-81 to 81)", () -> {
+            for (int innings = 0; innings < 4; innings++) {
+                TossGround x = leadGround();
+                for (int lead = -81; lead <= 81; lead++) {
+                    TossGround y = leadGround();
+                    for (int what = 0; what < 2; what++) {
+                        due("innings " + innings + ", lead " + lead + ", wins what " + what, x.wins(1, innings, true, lead, 3, what), y.wins(1, innings, true, lead, 3, what));
+                    }
+                }
+            }
+        });
+    }
+
+    static TossGround leadGround() {
+        return told("sessions 9;margin 0", "slot 1 0 runs 9 outs 1;slot 1 1 runs 9 outs 4;slot 1 2 runs 0 outs 2;slot 1 3 runs 3 outs 9");
+    }
+
+    /** Ahead of innings 2, in which side 1 had better declare, as on the declareGround. */
+    static TossGround questionMatch() {
+        TossGround x = lawOf(told("sessions 5;drawworth 24", flat(0, 5, 0), flat(1, 0, 0), halves(2, 9, 9)), "hard 1 if innings > 0;hard 1 if innings > 2");
+        x.toss(1);
+        return declared(declared(bring(x, 0), 0));
+    }
+
+    static long answer(Question question, TossGround x) {
+        try {
+            return question.of(x);
+        } catch (IllegalStateException e) {
+            return -77;
+        }
+    }
+
     static void manyCalls() {
         says("An object is used for at most 512 calls after it has been made", () -> {
             TossGround x = new TossGround();
@@ -715,6 +894,7 @@ public final class TossGroundWaysEdgeTest extends TossGroundSentences {
         hereAndToss();
         toldStates();
         declaring();
+        refusedStates();
         followingAndChasing();
         nextSession();
         swings();
@@ -722,6 +902,8 @@ public final class TossGroundWaysEdgeTest extends TossGroundSentences {
         books();
         signs();
         tables();
+        questions();
+        allLeads();
         manyCalls();
         end();
     }
