@@ -401,8 +401,8 @@ public final class TossGround {
         }
         odds.ready(game.first, told.drawWorth, false);
         boolean toFirst = Odds.firstBats(kind);
-        long waysGoing = odds.waysGoingOn(game.played, kind, spot, lead);
-        long waysTurned = odds.waysOtherwise(game.played, kind, spot, lead);
+        long waysGoing = odds.waysByChoice(false, game.played, kind, spot, lead);
+        long waysTurned = odds.waysByChoice(true, game.played, kind, spot, lead);
         long going = odds.valueOf(waysGoing, game.played, toFirst, told.drawWorth);
         long turned = odds.valueOf(waysTurned, game.played, toFirst, told.drawWorth);
         return Math.max(going, turned) - (choice == GO_ON ? going : turned);
@@ -672,14 +672,14 @@ public final class TossGround {
         if (game.winner != NONE) {
             ways = game.winner == DRAW ? 0L : odds.allTo(game.winner == game.first, game.played);
         } else {
-            ways = odds.waysAt(game.played, game.kind(), game.spot(), game.leadOf(game.first));
+            ways = odds.waysFrom(game.played, game.kind(), game.spot(), game.leadOf(game.first));
         }
         return odds.part(ways, game.played, what);
     }
 
     private long waysAfter(int slot) {
         odds.ready(game.first, told.drawWorth, false);
-        return odds.waysOfSlot(game.played, game.kind(), game.out, game.leadOf(game.first), slot, false);
+        return odds.waysBySlot(game.played, game.kind(), game.out, game.leadOf(game.first), slot);
     }
 
     private long tossValue(int side, int batsFirst) {
@@ -699,7 +699,7 @@ public final class TossGround {
 
     private long winsOf(int played, int kind, int lead, int out, int what) {
         boolean firstBats = Odds.firstBats(kind);
-        long ways = odds.waysAt(played, kind, out, firstBats ? lead : -lead);
+        long ways = odds.waysFrom(played, kind, out, firstBats ? lead : -lead);
         if (what == 2) {
             return odds.part(ways, played, 2);
         }
@@ -1713,8 +1713,23 @@ public final class TossGround {
             return chooses(played, kind, out, firstBats(kind) ? lead : -lead);
         }
 
-        /** Ahead of a session, whatever the lead; played goes up with each level of the recursion. */
-        long waysAt(int played, int kind, int spot, int lead) {
+        // The recursion is of private methods alone; these three lead into it.
+
+        /** Ahead of a session, both captains choosing from now on. */
+        long waysFrom(int played, int kind, int spot, int lead) {
+            return waysAt(played, kind, spot, lead);
+        }
+
+        long waysByChoice(boolean other, int played, int kind, int spot, int lead) {
+            return other ? waysOtherwise(played, kind, spot, lead) : waysGoingOn(played, kind, spot, lead);
+        }
+
+        long waysBySlot(int played, int kind, int out, int lead, int slot) {
+            return waysOfSlot(played, kind, out, lead, slot, false);
+        }
+
+        /** Whatever the lead; played goes up with each level of the recursion. */
+        private long waysAt(int played, int kind, int spot, int lead) {
             if (played < 0 || played >= ground.sessions) {
                 return 0L;
             }
@@ -1749,11 +1764,11 @@ public final class TossGround {
             return gain > 0 ? turned : going;
         }
 
-        long waysGoingOn(int played, int kind, int spot, int lead) {
+        private long waysGoingOn(int played, int kind, int spot, int lead) {
             return waysOfSession(played, kind, spot == FRESH ? 0 : spot, lead, false);
         }
 
-        long waysOtherwise(int played, int kind, int spot, int lead) {
+        private long waysOtherwise(int played, int kind, int spot, int lead) {
             switch (otherChoice(kind, spot, lead)) {
                 case DECLARE:
                     return waysOfNext(played, kind, lead);
@@ -1772,7 +1787,7 @@ public final class TossGround {
             return sum;
         }
 
-        long waysOfSlot(int played, int kind, int out, int lead, int slot, boolean held) {
+        private long waysOfSlot(int played, int kind, int out, int lead, int slot, boolean held) {
             boolean firstBats = firstBats(kind);
             int level = ground.levelOf(played, inningsOf(kind), firstBats ? first : 1 - first);
             int runs = held ? 0 : ground.runsIn(played, level, slot);
