@@ -1,6 +1,3 @@
-import java.io.File;
-import java.io.PrintWriter;
-import java.io.StringWriter;
 import java.util.ArrayList;
 import java.util.Collections;
 import java.util.List;
@@ -8,24 +5,17 @@ import java.util.Map;
 import java.util.Set;
 import java.util.TreeMap;
 import java.util.TreeSet;
-import java.util.regex.Matcher;
-import java.util.regex.Pattern;
-import java.util.spi.ToolProvider;
 
 /**
- * LANGUAGE.md's rules on calls, as the compiled class shows them by javap: recursion is of private methods
- * alone (rule 8), calls that are no recursion go at most eight deep (rule 11).
+ * LANGUAGE.md's rules on calls, as the compiled class shows them: recursion is of private methods alone
+ * (rule 8), calls that are no recursion go at most eight deep (rule 11).
  */
 public final class TossGroundCallsTest {
     static final int DEEPEST = 8;
-    static final Pattern CLASS = Pattern.compile("^\\S.*?(?:class|interface|enum) (TossGround\\S*)(?: extends (\\S+))?.*\\{$");
-    static final Pattern METHOD = Pattern.compile("^  (\\S.*?)([\\w$]+)\\(.*\\)(?: throws .*)?;$");
-    static final Pattern CALL = Pattern.compile("// (?:Interface)?Method (?:([\\w$/]+)\\.)?(\\w+):\\(");
 
-    static final Map<String, Set<String>> named = new TreeMap<>();
-    static final Map<String, String> above = new TreeMap<>();
-    static final Set<String> hidden = new TreeSet<>();
+    /** By owner.name: what each method of the program calls of it. */
     static final Map<String, Set<String>> calls = new TreeMap<>();
+    static final Set<String> hidden = new TreeSet<>();
     static int wrong = 0;
     static int asked = 0;
 
@@ -37,51 +27,29 @@ public final class TossGroundCallsTest {
         }
     }
 
-    static String dump(File dir) {
-        List<String> args = new ArrayList<>(List.of("-c", "-p", "-cp", dir.getPath(), "TossGround"));
-        for (Class<?> c : TossGround.class.getDeclaredClasses()) args.add(c.getName());
-        StringWriter out = new StringWriter();
-        ToolProvider javap = ToolProvider.findFirst("javap").orElseThrow();
-        must(javap.run(new PrintWriter(out), new PrintWriter(System.out), args.toArray(new String[0])) == 0, "javap reads the classes");
-        return out.toString();
-    }
-
-    static void read(String dump) {
-        String owner = "";
-        String method = "";
-        for (String line : dump.split("\n")) {
-            Matcher m = CLASS.matcher(line);
-            if (m.find()) {
-                owner = m.group(1);
-                if (m.group(2) != null) above.put(owner, m.group(2));
-                continue;
+    static void read(List<TossGroundClassFile> classes) {
+        Map<String, String> above = new TreeMap<>();
+        for (TossGroundClassFile c : classes) {
+            if (c.above != null) above.put(c.name, c.above);
+            for (String method : c.calls.keySet()) calls.put(c.name + "." + method, new TreeSet<>());
+            for (String method : c.hidden) hidden.add(c.name + "." + method);
+        }
+        for (TossGroundClassFile c : classes) {
+            for (String method : c.calls.keySet()) {
+                for (String to : c.calls.get(method)) resolve(calls.get(c.name + "." + method), to, above);
             }
-            m = METHOD.matcher(line);
-            if (m.find()) {
-                method = owner + "." + m.group(2);
-                calls.putIfAbsent(method, new TreeSet<>());
-                named.computeIfAbsent(method, k -> new TreeSet<>());
-                if (m.group(1).startsWith("private ")) hidden.add(method);
-                continue;
-            }
-            m = CALL.matcher(line);
-            if (m.find()) named.get(method).add((m.group(1) == null ? owner : m.group(1)) + "." + m.group(2));
         }
     }
 
     /** A method that is named on a class may stand above it, and be overridden below it. */
-    static void resolve() {
-        for (String from : named.keySet()) {
-            for (String to : named.get(from)) {
-                String owner = to.substring(0, to.indexOf('.'));
-                String name = to.substring(to.indexOf('.'));
-                while (owner != null && !calls.containsKey(owner + name)) owner = above.get(owner);
-                if (owner == null) continue;
-                calls.get(from).add(owner + name);
-                for (String below : above.keySet()) {
-                    if (owner.equals(above.get(below)) && calls.containsKey(below + name)) calls.get(from).add(below + name);
-                }
-            }
+    static void resolve(Set<String> called, String to, Map<String, String> above) {
+        String owner = to.substring(0, to.indexOf('.'));
+        String method = to.substring(to.indexOf('.'));
+        while (owner != null && !calls.containsKey(owner + method)) owner = above.get(owner);
+        if (owner == null) return;
+        called.add(owner + method);
+        for (String below : above.keySet()) {
+            if (owner.equals(above.get(below)) && calls.containsKey(below + method)) called.add(below + method);
         }
     }
 
@@ -107,8 +75,7 @@ public final class TossGroundCallsTest {
     }
 
     public static void main(String[] args) throws Exception {
-        read(dump(new File(TossGround.class.getProtectionDomain().getCodeSource().getLocation().toURI())));
-        resolve();
+        read(TossGroundClassFile.all());
         Map<String, Set<String>> reach = new TreeMap<>();
         for (String m : calls.keySet()) reach.put(m, reached(m));
         int circles = 0;

@@ -1,7 +1,3 @@
-import java.io.DataInputStream;
-import java.io.File;
-import java.io.FileInputStream;
-import java.io.IOException;
 import java.lang.reflect.Constructor;
 import java.lang.reflect.Field;
 import java.lang.reflect.Method;
@@ -127,30 +123,10 @@ public final class TossGroundLanguageTest {
     }
 
     /** Every method of another class that the constant pool names. */
-    static void library(File file) throws IOException {
-        try (DataInputStream in = new DataInputStream(new FileInputStream(file))) {
-            in.skipBytes(8);
-            int n = in.readUnsignedShort();
-            Object[] pool = new Object[n];
-            int[] tags = new int[n];
-            for (int i = 1; i < n; i++) {
-                tags[i] = in.readUnsignedByte();
-                switch (tags[i]) {
-                    case 1: pool[i] = in.readUTF(); break;
-                    case 3: case 4: in.readInt(); break;
-                    case 5: case 6: in.readLong(); i++; break;
-                    case 7: case 8: case 16: case 19: case 20: pool[i] = new int[] {in.readUnsignedShort()}; break;
-                    case 15: in.readUnsignedByte(); in.readUnsignedShort(); break;
-                    default: pool[i] = new int[] {in.readUnsignedShort(), in.readUnsignedShort()};
-                }
-            }
-            for (int i = 1; i < n; i++) {
-                must(tags[i] != 17 && tags[i] != 18, file.getName() + ": nothing dynamic (lambdas, joined texts)");
-                if (tags[i] != 9 && tags[i] != 10 && tags[i] != 11) continue;
-                String owner = (String) pool[((int[]) pool[((int[]) pool[i])[0]])[0]];
-                String name = (String) pool[((int[]) pool[((int[]) pool[i])[1]])[0]];
-                must(owner.startsWith("TossGround") || LIBRARY.contains(owner + "." + name), file.getName() + ": " + owner + "." + name + " is of the library");
-            }
+    static void library(TossGroundClassFile c) {
+        must(!c.dynamic, c.file + ": nothing dynamic (lambdas, joined texts)");
+        for (String member : c.members) {
+            must(member.startsWith("TossGround") || LIBRARY.contains(member), c.file + ": " + member + " is of the library");
         }
     }
 
@@ -159,10 +135,9 @@ public final class TossGroundLanguageTest {
         face(c);
         insides(c);
         for (Class<?> n : c.getDeclaredClasses()) insides(n);
-        File dir = new File(c.getProtectionDomain().getCodeSource().getLocation().toURI());
-        File[] files = dir.listFiles((d, name) -> name.equals("TossGround.class") || name.startsWith("TossGround$"));
-        must(files != null && files.length == c.getDeclaredClasses().length + 1, "the compiled classes are there");
-        if (files != null) for (File f : files) library(f);
+        List<TossGroundClassFile> files = TossGroundClassFile.all();
+        must(files.size() == c.getDeclaredClasses().length + 1, "the compiled classes are there");
+        for (TossGroundClassFile f : files) library(f);
         System.out.println(wrong == 0 ? "all " + asked + " are so" : wrong + " of " + asked + " are not so");
         if (wrong != 0) System.exit(1);
     }

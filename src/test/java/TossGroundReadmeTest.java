@@ -1,10 +1,7 @@
-import java.io.ByteArrayOutputStream;
 import java.io.File;
 import java.io.IOException;
-import java.io.PrintStream;
 import java.lang.reflect.Method;
-import java.net.URL;
-import java.net.URLClassLoader;
+import java.lang.reflect.Modifier;
 import java.nio.file.Files;
 import java.nio.file.Path;
 import java.util.ArrayList;
@@ -13,8 +10,6 @@ import java.util.Set;
 import java.util.TreeSet;
 import java.util.regex.Matcher;
 import java.util.regex.Pattern;
-import javax.tools.JavaCompiler;
-import javax.tools.ToolProvider;
 
 /** README.md holds: its program prints what the page says, and it names every call and every test that there is. */
 public final class TossGroundReadmeTest {
@@ -43,32 +38,24 @@ public final class TossGroundReadmeTest {
         return found;
     }
 
-    /** Compiled against the class that is tested, and run beside it. */
+    /** Compiled against the class that is tested, and run beside it, by the javac and java that .ci/run takes. */
     static String printedBy(String program) throws Exception {
         Path dir = Files.createTempDirectory("toss");
-        Path source = dir.resolve("Usage.java");
-        Files.writeString(source, program);
-        JavaCompiler javac = ToolProvider.getSystemJavaCompiler();
+        Path source = Files.writeString(dir.resolve("Usage.java"), program);
         String path = new File(TossGround.class.getProtectionDomain().getCodeSource().getLocation().toURI()).getPath();
-        int code = javac.run(null, null, null, "-cp", path, "-d", dir.toString(), source.toString());
-        must(code == 0, "the program of README.md compiles");
-        String printed = code == 0 ? run(dir) : "";
+        outputOf("javac", "-cp", path, "-d", dir.toString(), source.toString());
+        String printed = outputOf("java", "-cp", path + File.pathSeparator + dir, "Usage");
         for (File f : dir.toFile().listFiles()) Files.delete(f.toPath());
         Files.delete(dir);
         return printed;
     }
 
-    static String run(Path dir) throws Exception {
-        PrintStream before = System.out;
-        ByteArrayOutputStream out = new ByteArrayOutputStream();
-        try (URLClassLoader loader = new URLClassLoader(new URL[] {dir.toUri().toURL()}, TossGround.class.getClassLoader())) {
-            System.setOut(new PrintStream(out, true));
-            Method main = loader.loadClass("Usage").getMethod("main", String[].class);
-            main.invoke(null, (Object) new String[0]);
-        } finally {
-            System.setOut(before);
-        }
-        return out.toString().replace(System.lineSeparator(), "\n");
+    /** What it says of errors is left out: a machine may put words of its own there. */
+    static String outputOf(String... command) throws Exception {
+        Process process = new ProcessBuilder(command).redirectError(ProcessBuilder.Redirect.INHERIT).start();
+        String out = new String(process.getInputStream().readAllBytes());
+        must(process.waitFor() == 0, command[0] + " takes the program of README.md");
+        return out.replace(System.lineSeparator(), "\n");
     }
 
     static void callsAreNamed(String page) {
@@ -76,7 +63,7 @@ public final class TossGroundReadmeTest {
         Set<String> named = namedIn(table, "`(\\w+)`");
         Set<String> face = new TreeSet<>();
         for (Method m : TossGround.class.getDeclaredMethods()) {
-            if (java.lang.reflect.Modifier.isPublic(m.getModifiers())) face.add(m.getName());
+            if (Modifier.isPublic(m.getModifiers())) face.add(m.getName());
         }
         must(named.equals(face), "the table names the calls of the face: " + named);
     }
